@@ -81,6 +81,7 @@ public final class ArrayCalculator {
     private static final int PLAIN_LINE = 0;
     private static final int NAMING_LINE = 1;
     private static final int TELLING_LINE = 2;
+    private static final int AMENDING_LINE = 3;
 
     private static final long[] NO_NUMBERS = {};
 
@@ -129,39 +130,43 @@ public final class ArrayCalculator {
         fed = 0;
         int before = machine.workLeft();
         tokens.split(n);
-        lineError = 0;
-        linePlace = NONE;
         if (!reader.read()) {
-            blame(BAD_LINE, reader.wrongPlace());
-        } else if (reader.sort() != PLAIN_LINE && known.full() && !known.knows(reader.named())) {
-            blame(TOO_MANY, tokens.placeAt(0));
+            endLine(BAD_LINE, reader.wrongPlace());
+        } else if (isOneNameMore()) {
+            endLine(TOO_MANY, tokens.placeAt(0));
+        } else if (reader.sort() == TELLING_LINE) {
+            known.tell(reader.named(), reader.first());
+            endLine(0, NONE);
         } else {
-            doLine();
+            takeIn(machine.run(reader.first()));
         }
         lineWork = before - machine.workLeft();
         pointed = result;
         return -lineError;
     }
 
-    private void doLine() {
-        if (reader.sort() == TELLING_LINE) {
-            known.tell(reader.named(), reader.first());
-            return;
-        }
-        Value made = machine.run(reader.first());
+    private void endLine(int error, int place) {
+        lineError = error;
+        linePlace = place;
+    }
+
+    /** Whether the line gives something to a NAME that would be one more than may be known. */
+    private boolean isOneNameMore() {
+        boolean gives = reader.sort() == NAMING_LINE || reader.sort() == TELLING_LINE;
+        return gives && known.full() && !known.knows(reader.named());
+    }
+
+    /** Takes in what the line came to; null: an error. */
+    private void takeIn(Value made) {
         if (made == null) {
-            blame(machine.error(), machine.errorPlace());
+            endLine(machine.error(), machine.errorPlace());
             return;
         }
-        if (reader.sort() == NAMING_LINE) {
+        if (reader.sort() != PLAIN_LINE) {
             known.give(reader.named(), made);
         }
         result = made;
-    }
-
-    private void blame(int error, int place) {
-        lineError = error;
-        linePlace = place;
+        endLine(0, NONE);
     }
 
     public int told(int what) {
@@ -297,7 +302,7 @@ public final class ArrayCalculator {
                 counted = vals.length;
                 for (int i = 0; i < vals.length; i++) {
                     sized += vals[i].size;
-                    levelled = Math.max(levelled, vals[i].levels);
+                    levelled = vals[i].levels > levelled ? vals[i].levels : levelled;
                 }
                 levelled++;
             } else if (cols > 0) {
@@ -371,15 +376,15 @@ public final class ArrayCalculator {
         /** The item at place i; ONE is its own item at any place, as acts spread it over others. */
         Value itemAt(int i) {
             if (form == NEST) {
-                return i >= 0 && i < vals.length ? vals[i] : fault(NO_PLACE);
+                return i >= 0 && i < vals.length ? vals[i] : this;
             }
             if (isOne() || i < 0 || i >= many) {
                 return this;
             }
             if (form == TABLE) {
-                return row(INTS, Arrays.copyOfRange(row, i * cols, i * cols + cols));
+                return new Value(INTS, 0, Arrays.copyOfRange(row, i * cols, i * cols + cols), 0, null);
             }
-            return form == SIGNS ? sign(row[i]) : number(row[i]);
+            return new Value(form == SIGNS ? SIGN : NUMBER, row[i], NO_NUMBERS, 0, null);
         }
 
         /** The number at place i of a ROW or TABLE; that of ONE at any place. */
@@ -395,52 +400,45 @@ public final class ArrayCalculator {
         /** The items at the first n of the places: as ROW of its KIND, TABLE or NEST. */
         Value pick(int[] places, int n) {
             if (form == NEST) {
-                return pickValues(places, n);
+                return n > MOST_VALUES ? fault(TOO_MANY) : pickValues(places, n);
+            }
+            if (form == TABLE && (n == 0 || n > MOST_LINES)) {
+                return fault(n == 0 ? WRONG_COUNT : TOO_MANY);
             }
             if (form == TABLE) {
                 return pickLines(places, n);
+            }
+            int formPicked = form;
+            if (form == SIGN) {
+                formPicked = SIGNS;
+            } else if (form == NUMBER) {
+                formPicked = fitsInt(num) ? INTS : LONGS;
             }
             long[] picked = new long[n];
             for (int i = 0; i < n; i++) {
                 picked[i] = numberAt(places[i]);
             }
-            if (form == SIGN) {
-                return row(SIGNS, picked);
-            }
-            if (form == NUMBER) {
-                return row(fitsInt(num) ? INTS : LONGS, picked);
-            }
-            return row(form, picked);
+            return new Value(formPicked, 0, picked, 0, null);
         }
 
         private Value pickValues(int[] places, int n) {
-            if (n > MOST_VALUES) {
-                return fault(TOO_MANY);
-            }
             Value[] picked = new Value[n];
             for (int i = 0; i < n; i++) {
-                picked[i] = itemAt(places[i]);
+                int at = places[i];
+                picked[i] = at >= 0 && at < vals.length ? vals[at] : this;
             }
-            return nest(picked);
+            return new Value(NEST, 0, NO_NUMBERS, 0, picked);
         }
 
         private Value pickLines(int[] places, int n) {
-            if (n == 0) {
-                return fault(WRONG_COUNT);
-            }
-            if (n > MOST_LINES) {
-                return fault(TOO_MANY);
-            }
             long[] picked = new long[n * cols];
-            for (int i = 0; i < n; i++) {
-                for (int c = 0; c < cols; c++) {
-                    picked[i * cols + c] = numberAt(places[i] * cols + c);
-                }
+            for (int i = 0; i < picked.length; i++) {
+                picked[i] = numberAt(places[i / cols] * cols + i % cols);
             }
-            return table(picked, cols);
+            return new Value(TABLE, 0, picked, cols, null);
         }
 
-        static boolean same(Value a, Value b) {
+        private static boolean same(Value a, Value b) {
             if (a.isOne() || b.isOne()) {
                 return a.form == b.form && a.num == b.num;
             }
@@ -459,8 +457,11 @@ public final class ArrayCalculator {
         }
 
         private static boolean sameRun(Value a, int from, Value b, int start, int n) {
+            if (from < 0 || start < 0 || from + n > a.row.length || start + n > b.row.length) {
+                return false;
+            }
             for (int i = 0; i < n; i++) {
-                if (a.numberAt(from + i) != b.numberAt(start + i)) {
+                if (a.row[from + i] != b.row[start + i]) {
                     return false;
                 }
             }
@@ -470,10 +471,11 @@ public final class ArrayCalculator {
         /** Whether item i of a is SAME as item j of b, without making those items. */
         static boolean sameItems(Value a, int i, Value b, int j) {
             if (a.form == NEST) {
-                return sameItem(b, j, a.itemAt(i));
+                Value value = a.itemAt(i);
+                return b.form == NEST ? same(b.itemAt(j), value) : sameFlatItem(b, j, value);
             }
             if (b.form == NEST) {
-                return sameItem(a, i, b.itemAt(j));
+                return sameFlatItem(a, i, b.itemAt(j));
             }
             if (a.form == TABLE || b.form == TABLE) {
                 return a.cols == b.cols && sameRun(a, i * a.cols, b, j * b.cols, a.cols);
@@ -483,9 +485,11 @@ public final class ArrayCalculator {
 
         /** Whether item i of a is SAME as v, without making that item. */
         static boolean sameItem(Value a, int i, Value v) {
-            if (a.form == NEST) {
-                return same(a.itemAt(i), v);
-            }
+            return a.form == NEST ? same(a.itemAt(i), v) : sameFlatItem(a, i, v);
+        }
+
+        /** The same, where a is no NEST. */
+        private static boolean sameFlatItem(Value a, int i, Value v) {
             if (a.form == TABLE) {
                 return v.isRow() && v.form != SIGNS && v.many == a.cols && sameRun(a, i * a.cols, v, 0, a.cols);
             }
@@ -546,7 +550,7 @@ public final class ArrayCalculator {
         }
 
         boolean isMark(int i, int mark) {
-            return sortAt(i) == MARK && dataAt(i) == mark;
+            return i >= 0 && i < made && sorts[i] == MARK && data[i] == mark;
         }
 
         boolean isName(int i) {
@@ -730,18 +734,28 @@ public final class ArrayCalculator {
         boolean read() {
             at = 0;
             lineName = tokens.dataAt(0);
-            lineSort = PLAIN_LINE;
-            boolean begins = tokens.isName(0);
+            lineSort = tokens.isName(0) ? sortOfLine() : PLAIN_LINE;
             boolean own = lineName == NAME_X || lineName == NAME_Y;
-            if (begins && tokens.isMark(1, ':')) {
-                start = own ? fail() : naming();
-            } else if (begins && isAmending()) {
-                start = own || tokens.sortAt(0) == FUNCTION ? fail() : amending();
-            } else {
-                start = expr(null, 0);
+            if (lineSort != PLAIN_LINE && (own || (lineSort == AMENDING_LINE && tokens.sortAt(0) == FUNCTION))) {
+                start = fail();
+                return false;
+            }
+            Op then = null;
+            if (lineSort == AMENDING_LINE) {
+                at = 3;
+                then = expr(amendment(), 1);
+                if (then == null || !skip(')') || !skip(':')) {
+                    return false;
+                }
+            } else if (lineSort != PLAIN_LINE) {
+                at = lineSort == TELLING_LINE ? 3 : 2;
+            }
+            start = expr(then, lineSort == TELLING_LINE ? 1 : 0);
+            if (start == null || (lineSort == TELLING_LINE && !skip('}'))) {
+                return false;
             }
             // Where a byte is no token, END stands at it, and is no end of the line.
-            if (start != null && (tokens.sortAt(at) != END || !tokens.whole())) {
+            if (tokens.sortAt(at) != END || !tokens.whole()) {
                 start = fail();
             }
             return start != null;
@@ -752,16 +766,28 @@ public final class ArrayCalculator {
             return null;
         }
 
-        private Op naming() {
-            at = 2;
-            if (!tokens.isMark(at, '{')) {
-                lineSort = NAMING_LINE;
-                return expr(null, 0);
+        private boolean skip(int mark) {
+            if (tokens.isMark(at, mark)) {
+                at++;
+                return true;
             }
-            lineSort = TELLING_LINE;
-            at++;
-            Op body = expr(null, 1);
-            return body != null && skip('}') ? body : null;
+            wrong = tokens.placeAt(at);
+            return false;
+        }
+
+        /** What a line that begins with a NAME is. */
+        private int sortOfLine() {
+            if (tokens.isMark(1, ':')) {
+                return tokens.isMark(2, '{') ? TELLING_LINE : NAMING_LINE;
+            }
+            return isAmending() ? AMENDING_LINE : PLAIN_LINE;
+        }
+
+        /** What comes behind the last expr and the places of a line of the second form. */
+        private Op amendment() {
+            Op name = new Op(LOOK_UP, tokens.placeAt(0), new Op(AMEND, tokens.placeAt(1), null));
+            name.name = lineName;
+            return name;
         }
 
         /** Whether the line is one of the second form: NAME @ ( .. ) : with any marks between. */
@@ -780,28 +806,6 @@ public final class ArrayCalculator {
                     return tokens.isMark(i + 1, ':');
                 }
             }
-            return false;
-        }
-
-        private Op amending() {
-            lineSort = NAMING_LINE;
-            Op amend = new Op(AMEND, tokens.placeAt(1), null);
-            Op name = new Op(LOOK_UP, tokens.placeAt(0), amend);
-            name.name = lineName;
-            at = 3;
-            Op places = expr(name, 1);
-            if (places == null || !skip(')') || !skip(':')) {
-                return null;
-            }
-            return expr(places, 0);
-        }
-
-        private boolean skip(int mark) {
-            if (tokens.isMark(at, mark)) {
-                at++;
-                return true;
-            }
-            fail();
             return false;
         }
 
@@ -1437,13 +1441,6 @@ public final class ArrayCalculator {
                     return groups(w);
                 case '?':
                     return unlike(w);
-                default:
-                    return ofOthers(verb, w);
-            }
-        }
-
-        private Value ofOthers(int verb, Value w) {
-            switch (verb) {
                 case '!':
                     return placesBelow(w);
                 case ',':
@@ -1573,27 +1570,11 @@ public final class ArrayCalculator {
             return Value.row(INTS, row);
         }
 
-        /** Puts the places of the items that are unlike all ahead into places: how many. */
-        private int firstPlaces(Value w) {
-            int n = 0;
-            for (int i = 0; i < w.many; i++) {
-                int at = 0;
-                while (at < n && !Value.sameItems(w, i, w, places[at])) {
-                    at++;
-                }
-                if (at == n) {
-                    places[n] = i;
-                    n++;
-                }
-            }
-            return n;
-        }
-
         private Value groups(Value w) {
             if (!w.isRow()) {
                 return Value.fault(WRONG_SORT);
             }
-            int n = firstPlaces(w);
+            int n = unlikePlaces(w);
             if (n > MOST_VALUES) {
                 return Value.fault(TOO_MANY);
             }
@@ -1611,19 +1592,45 @@ public final class ArrayCalculator {
             return Value.nest(vals);
         }
 
+        /** Puts the places of a ROW's items that are unlike all ahead of them into places: how many. */
+        private int unlikePlaces(Value w) {
+            int n = 0;
+            for (int i = 0; i < w.many; i++) {
+                int at = 0;
+                while (at < n && w.row[i] != w.row[places[at]]) {
+                    at++;
+                }
+                if (at == n) {
+                    places[n] = i;
+                    n++;
+                }
+            }
+            return n;
+        }
+
         private Value unlike(Value w) {
             if (w.isOne()) {
                 return w;
             }
-            int n = firstPlaces(w);
-            if (w.form != TABLE) {
-                return w.pick(places, n);
+            if (w.isRow()) {
+                return w.pick(places, unlikePlaces(w));
             }
-            Value[] lines = new Value[n];
+            int n = 0;
+            for (int i = 0; i < w.many; i++) {
+                int at = 0;
+                while (at < n && !Value.sameItems(w, i, w, places[at])) {
+                    at++;
+                }
+                if (at == n) {
+                    places[n] = i;
+                    n++;
+                }
+            }
+            Value[] vals = new Value[n];
             for (int i = 0; i < n; i++) {
-                lines[i] = w.itemAt(places[i]);
+                vals[i] = w.itemAt(places[i]);
             }
-            return Value.nest(lines);
+            return Value.nest(vals);
         }
 
         private static Value placesBelow(Value w) {
@@ -1856,18 +1863,13 @@ public final class ArrayCalculator {
             }
             long[] row = new long[w.many];
             for (int i = 0; i < row.length; i++) {
-                row[i] = placeOf(w, i, l);
+                int at = 0;
+                while (at < l.many && !Value.sameItems(l, at, w, i)) {
+                    at++;
+                }
+                row[i] = at;
             }
             return Value.row(INTS, row);
-        }
-
-        /** The first place of an item of among that is SAME as item i of w; its COUNT: there is none. */
-        private static int placeOf(Value w, int i, Value among) {
-            int at = 0;
-            while (at < among.many && !Value.sameItems(among, at, w, i)) {
-                at++;
-            }
-            return at;
         }
 
         private Value at(Value l, Value w) {
@@ -1926,7 +1928,11 @@ public final class ArrayCalculator {
             }
             int n = 0;
             for (int i = 0; i < l.many; i++) {
-                if (placeOf(l, i, w) == w.many) {
+                int at = 0;
+                while (at < w.many && !Value.sameItems(l, i, w, at)) {
+                    at++;
+                }
+                if (at == w.many) {
                     places[n] = i;
                     n++;
                 }
@@ -2003,7 +2009,10 @@ public final class ArrayCalculator {
                 }
                 puts[places[i]] = put;
             }
-            return l.form == TABLE ? amendedTable(l) : amendedItems(l);
+            if (l.form == TABLE) {
+                return amendedTable(l);
+            }
+            return takesPuts(l) ? amendedRow(l) : amendedNest(l);
         }
 
         /** What a TABLE asks of a LINE that is put into it: an error, or 0. */
@@ -2034,23 +2043,22 @@ public final class ArrayCalculator {
             return Value.table(row, l.cols);
         }
 
-        private Value amendedItems(Value l) {
+        /** Whether l is a ROW of which all that is put is of its sort. */
+        private boolean takesPuts(Value l) {
             int form = l.form == SIGNS ? SIGN : NUMBER;
-            boolean alike = l.form != NEST;
-            boolean bits = l.form == BITS;
+            boolean alike = l.isRow();
             for (int i = 0; i < l.many; i++) {
-                Value put = puts[i];
-                if (put != null) {
-                    alike = alike && put.form == form;
-                    bits = bits && (put.num == 0 || put.num == 1);
-                }
+                alike = alike && (puts[i] == null || puts[i].form == form);
             }
-            if (!alike) {
-                return amendedNest(l);
-            }
+            return alike;
+        }
+
+        private Value amendedRow(Value l) {
+            boolean bits = l.form == BITS;
             long[] row = new long[l.many];
             for (int i = 0; i < row.length; i++) {
                 row[i] = puts[i] == null ? l.row[i] : puts[i].num;
+                bits = bits && (row[i] == 0 || row[i] == 1);
             }
             if (l.form == SIGNS) {
                 return Value.row(SIGNS, row);
@@ -2093,7 +2101,7 @@ public final class ArrayCalculator {
         }
 
         /** Beyond the greatest SIZE nothing is made any more, but errors of items still come first. */
-        Value pair(Value l, Value w) {
+        private Value pair(Value l, Value w) {
             if (l.form != NEST && w.form != NEST) {
                 return flat(l, w);
             }
@@ -2112,66 +2120,65 @@ public final class ArrayCalculator {
         private Value flat(Value l, Value w) {
             if (l.isOne() && w.isOne()) {
                 size++;
-                return Value.number(outcome(l, 0, w, 0));
+                return Value.number(outcome(l, w, 0));
             }
-            if (!l.isOne() && !w.isOne()) {
-                if (l.isRow() != w.isRow()) {
-                    fault = WRONG_SORT;
-                    return l;
-                }
-                if (l.many != w.many || l.cols != w.cols) {
-                    fault = WRONG_COUNT;
-                    return l;
-                }
-            }
+            fault = asked(l, w);
             Value like = l.isOne() ? w : l;
             int n = like.row.length;
             for (int i = 0; i < n && fault == 0; i++) {
-                numbers[i] = outcome(l, i, w, i);
+                numbers[i] = outcome(l, w, i);
                 if (fault == 0 && like.form == TABLE && !fitsInt(numbers[i])) {
                     fault = BEYOND;
                 }
             }
             size += 1 + n;
-            return fault == 0 && size <= MOST_SIZE ? flatMade(like) : l;
-        }
-
-        private Value flatMade(Value like) {
-            long[] row = Arrays.copyOf(numbers, like.row.length);
+            if (fault != 0 || size > MOST_SIZE) {
+                return l;
+            }
+            long[] row = Arrays.copyOf(numbers, n);
             if (like.form == TABLE) {
                 return Value.table(row, like.cols);
             }
             return verb == '<' || verb == '>' || verb == '=' ? Value.row(BITS, row) : Value.numberRow(row);
         }
 
-        private long outcome(Value l, int i, Value w, int j) {
-            long a = l.numberAt(i);
-            long b = w.numberAt(j);
-            boolean signs = l.ofSigns() || w.ofSigns();
-            boolean alike = l.ofSigns() == w.ofSigns();
-            switch (verb) {
-                case '=':
-                    return alike && a == b ? 1 : 0;
-                case '<':
-                case '>':
-                    fault = alike ? fault : WRONG_NUMBER;
-                    return (verb == '<' ? a < b : a > b) ? 1 : 0;
-                default:
-                    fault = signs ? WRONG_NUMBER : fault;
-                    return signs ? 0 : reckoned(a, b);
+        /** What is asked of two values, no NESTS, ahead of their items: an error, or 0. */
+        private static int asked(Value l, Value w) {
+            if (l.isOne() || w.isOne()) {
+                return 0;
             }
+            if (l.isRow() != w.isRow()) {
+                return WRONG_SORT;
+            }
+            return l.many != w.many || l.cols != w.cols ? WRONG_COUNT : 0;
         }
 
-        private long reckoned(long a, long b) {
+        /** What the act makes of the numbers at place i; sets fault where it makes none. */
+        private long outcome(Value l, Value w, int i) {
+            long a = l.numberAt(i);
+            long b = w.numberAt(i);
+            boolean alike = l.ofSigns() == w.ofSigns();
+            if (verb == '=') {
+                return alike && a == b ? 1 : 0;
+            }
+            boolean compares = verb == '<' || verb == '>';
+            if (!alike || (l.ofSigns() && !compares)) {
+                fault = WRONG_NUMBER;
+                return 0;
+            }
             switch (verb) {
+                case '<':
+                    return a < b ? 1 : 0;
+                case '>':
+                    return a > b ? 1 : 0;
                 case '+':
-                    fault = beyondSum(a, b) ? BEYOND : fault;
+                    fault = beyondSum(a, b) ? BEYOND : 0;
                     return a + b;
                 case '-':
-                    fault = beyondDifference(a, b) ? BEYOND : fault;
+                    fault = beyondDifference(a, b) ? BEYOND : 0;
                     return a - b;
                 case '*':
-                    fault = beyondProduct(a, b) ? BEYOND : fault;
+                    fault = beyondProduct(a, b) ? BEYOND : 0;
                     return a * b;
                 case '%':
                     return quotient(a, b);
@@ -2251,7 +2258,7 @@ public final class ArrayCalculator {
             return k >= 0 && k < made ? bytes[k] : NONE;
         }
 
-        void put(Value value) {
+        private void put(Value value) {
             switch (value.form) {
                 case NUMBER:
                     putNumber(value.num);
@@ -2261,18 +2268,33 @@ public final class ArrayCalculator {
                     putSigns(value);
                     break;
                 case BITS:
-                    putNumbers(value, 0, value.many, 0);
+                    putNumbers(value);
                     add('b');
                     break;
                 case INTS:
                 case LONGS:
-                    putRow(value);
+                    if (value.many < 2) {
+                        add(value.many == 0 ? '!' : ',');
+                    }
+                    if (value.many == 0) {
+                        add('0');
+                    }
+                    putNumbers(value);
                     break;
                 case TABLE:
-                    putTable(value);
+                    add('[');
+                    putNumbers(value);
+                    add(']');
                     break;
                 case NEST:
-                    putNest(value);
+                    add('(');
+                    for (int i = 0; i < value.many; i++) {
+                        if (i > 0) {
+                            add(';');
+                        }
+                        put(value.itemAt(i));
+                    }
+                    add(')');
                     break;
                 default:
                     break;
@@ -2287,9 +2309,6 @@ public final class ArrayCalculator {
         }
 
         private void putNumber(long number) {
-            if (number < 0) {
-                add('_');
-            }
             // Below 0 there is room for the digits of every number, above there isn't.
             long left = number < 0 ? number : -number;
             int n = 0;
@@ -2297,20 +2316,25 @@ public final class ArrayCalculator {
                 digits[n] = (byte) ('0' - left % 10);
                 n++;
                 left /= 10;
-            } while (left != 0 && n < digits.length);
-            while (n > 0) {
+            } while (left != 0 && n < digits.length - 1);
+            if (number < 0) {
+                digits[n] = '_';
+                n++;
+            }
+            while (n > 0 && made < bytes.length) {
                 n--;
-                add(digits[n]);
+                bytes[made] = digits[n];
+                made++;
             }
         }
 
-        /** The numbers from one on, parted by the byte between, if it isn't 0. */
-        private void putNumbers(Value value, int from, int n, int between) {
-            for (int i = 0; i < n; i++) {
-                if (i > 0 && between != 0) {
-                    add(between);
+        /** The numbers of a ROW or TABLE with what parts them; nothing parts BITS. */
+        private void putNumbers(Value value) {
+            for (int i = 0; i < value.row.length; i++) {
+                if (i > 0 && value.form != BITS) {
+                    add(value.cols > 0 && i % value.cols == 0 ? ';' : ' ');
                 }
-                putNumber(value.numberAt(from + i));
+                putNumber(value.row[i]);
             }
         }
 
@@ -2324,38 +2348,6 @@ public final class ArrayCalculator {
                 add(c < ' ' || c > '~' || c == '\'' ? '.' : (int) c);
             }
             add('\'');
-        }
-
-        private void putRow(Value value) {
-            if (value.many == 0) {
-                add('!');
-                add('0');
-            } else if (value.many == 1) {
-                add(',');
-            }
-            putNumbers(value, 0, value.many, ' ');
-        }
-
-        private void putTable(Value value) {
-            add('[');
-            for (int i = 0; i < value.many; i++) {
-                if (i > 0) {
-                    add(';');
-                }
-                putNumbers(value, i * value.cols, value.cols, ' ');
-            }
-            add(']');
-        }
-
-        private void putNest(Value value) {
-            add('(');
-            for (int i = 0; i < value.many; i++) {
-                if (i > 0) {
-                    add(';');
-                }
-                put(value.itemAt(i));
-            }
-            add(')');
         }
     }
 }
