@@ -713,6 +713,7 @@ public final class ArrayCalculator {
 
         Reader(Tokens tokens) {
             this.tokens = tokens;
+            tail = new Op(PASS, 0, null);
         }
 
         int wrongPlace() {

@@ -257,6 +257,16 @@ public final class OneActsTest {
             .takes("r: !120", 125)
             // Eight rows of 121 each, one of 30, one of 1, and the NEST's own 1: 1000.
             .shows("#(r;r;r;r;r;r;r;r;29#1;!0)", "10")
-            .fails("#(r;r;r;r;r;r;r;r;30#1;!0)", 8, 1);
+            .fails("#(r;r;r;r;r;r;r;r;30#1;!0)", 8, 1)
+            .takes("n: (r;r;r;r;r;r;r;r;29#1;!0)", 3 + 1 + 1 + 30 + 3 + 1 + 1 + 1003)
+            .shows("#-n", "10")
+            .shows("#n+0", "10")
+            .shows("#n=n", "10")
+            .fails("n,0", 8, 1)
+            .takes("m: (1;'a';1;1;1;1;1;1;1;1)", 3 + 11)
+            .fails("m=r", 8, 1)
+            .takes("m: 8#m", 3 + 1 + 11 + 9)
+            .takes("m=r", 3 + 9 + 121 + 1 + 8 * 121)
+            .fails("m<r", 5, 1);
     }
 }

@@ -51,6 +51,7 @@ public final class ReadingTest {
             .fails("'abc", 1, 0)
             .fails("1 2, 'abc", 1, 5)
             .fails("'a\tb'", 1, 0)
+            .fails("'\t'", 1, 0)
             .fails("'a\u007fb'", 1, 0)
             .fails("'a\u00e9b'", 1, 0)
             .shows("'~!\"#'", "'~!\"#'", 3)
@@ -93,6 +94,8 @@ public final class ReadingTest {
             .fails("-'a'", 1, 3)
             .fails("- 'a'", 5, 0)
             .shows("f'1 2", "1 2")
+            .fails("f1", 1, 1)
+            .fails("-f1 2", 1, 2)
             .shows("f 'ab'", "'ab'")
             .fails("f'ab'", 1, 4)
             .fails("a'ab'", 1, 1)
@@ -185,7 +188,11 @@ public final class ReadingTest {
         check.shows("[1;".repeat(12) + "2" + ";3]".repeat(12), "2");
         check.shows("f:{" + "(".repeat(11) + "x" + ")".repeat(11) + "}", "2");
         check.fails("f:{" + "(".repeat(12) + "x" + ")".repeat(12) + "}", 1, 14);
+        check.fails("[".repeat(13) + "1", 1, 12);
         check.shows("a: 1 2", "1 2");
+        check.shows("c: 1 0", "1 0");
+        check.shows("c@(".repeat(12) + "1" + ")".repeat(12), "1");
+        check.fails("c@(".repeat(13) + "1" + ")".repeat(13), 1, 38);
         check.shows("(".repeat(11) + "a@(1)" + ")".repeat(11), "2");
         check.fails("(".repeat(12) + "a@(1)" + ")".repeat(12), 1, 14);
         check.shows("a@(" + "(".repeat(11) + "1" + ")".repeat(11) + "):5", "1 5");
