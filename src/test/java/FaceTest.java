@@ -263,6 +263,18 @@ public final class FaceTest {
         Check.same("names 1 then", calc.names(1), 1);
         check.fails("new: 1+", 1, 7);
         Check.same("a failed line gives no name", calc.names(0), 2);
+        check.line("c: 7");
+        check.line("d: 8");
+        check.line("abcdefgh: {x+5}");
+        check.line("g: {x+6}");
+        spells(calc, 0, 0, "fun");
+        spells(calc, 0, 1, "c");
+        spells(calc, 0, 2, "d");
+        check.shows("fun,c,d", "4 7 8");
+        check.line("zebra: 1");
+        spells(calc, 1, 0, "abcdefgh");
+        spells(calc, 1, 1, "g");
+        check.shows("(g 1),abcdefgh 1", "7 6");
     }
 
     private static void spells(ArrayCalculator calc, int what, int i, String name) {
