@@ -2002,6 +2002,9 @@ public final class ArrayCalculator {
             for (int i = 0; i < l.many; i++) {
                 puts[i] = null;
             }
+            // All that is put tells the KIND, also what another value at its place comes behind.
+            boolean ofItsSort = l.isRow();
+            boolean bits = l.form == BITS;
             for (int i = 0; i < w.many; i++) {
                 Value put = whole ? v : v.itemAt(i);
                 int wrong = l.form == TABLE ? lineAsked(put, l.cols) : 0;
@@ -2009,11 +2012,13 @@ public final class ArrayCalculator {
                     return Value.fault(wrong);
                 }
                 puts[places[i]] = put;
+                ofItsSort = ofItsSort && put.form == (l.form == SIGNS ? SIGN : NUMBER);
+                bits = bits && (put.num == 0 || put.num == 1);
             }
             if (l.form == TABLE) {
                 return amendedTable(l);
             }
-            return takesPuts(l) ? amendedRow(l) : amendedNest(l);
+            return ofItsSort ? amendedRow(l, bits) : amendedNest(l);
         }
 
         /** What a TABLE asks of a LINE that is put into it: an error, or 0. */
@@ -2044,22 +2049,10 @@ public final class ArrayCalculator {
             return Value.table(row, l.cols);
         }
 
-        /** Whether l is a ROW of which all that is put is of its sort. */
-        private boolean takesPuts(Value l) {
-            int form = l.form == SIGNS ? SIGN : NUMBER;
-            boolean alike = l.isRow();
-            for (int i = 0; i < l.many; i++) {
-                alike = alike && (puts[i] == null || puts[i].form == form);
-            }
-            return alike;
-        }
-
-        private Value amendedRow(Value l) {
-            boolean bits = l.form == BITS;
+        private Value amendedRow(Value l, boolean bits) {
             long[] row = new long[l.many];
             for (int i = 0; i < row.length; i++) {
                 row[i] = puts[i] == null ? l.row[i] : puts[i].num;
-                bits = bits && (row[i] == 0 || row[i] == 1);
             }
             if (l.form == SIGNS) {
                 return Value.row(SIGNS, row);

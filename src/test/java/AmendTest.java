@@ -3,6 +3,7 @@ public final class AmendTest {
     public static void main(String[] args) {
         naming();
         rows();
+        placeToldTwice();
         nests();
         tables();
         errors();
@@ -50,7 +51,6 @@ public final class AmendTest {
             .shows("b@(0): 2", "2 0 1", 4)
             .shows("b: 1 2=1 2", "11b", 2)
             .shows("b@(!0): 7", "11b", 2)
-            .shows("b@(0 0): 7 0", "01b", 2)
             .shows("s: 'hello'", "'hello'")
             .shows("s@(0): 'j'", "'jello'", 3)
             .shows("s@(1 4): 'ay'", "'jally'", 3)
@@ -64,6 +64,28 @@ public final class AmendTest {
             .shows("l@(!0): 1", ",5", 4)
             .shows("e: 0# 'a'", "''", 3)
             .shows("e@(!0): 1", "''", 3);
+    }
+
+    private static void placeToldTwice() {
+        new Check()
+            .shows("a: 1 2 3", "1 2 3")
+            .shows("a@(0 0): ('x';5)", "(5;2;3)", 7)
+            .shows("a: 1 2 3", "1 2 3")
+            .shows("a@(0 0): (4 5;5)", "(5;2;3)", 7)
+            .shows("a: 1 2 3", "1 2 3")
+            .shows("a@(0 0): (5;'x')", "('x';2;3)", 7)
+            .shows("a: 1 2 3", "1 2 3")
+            .shows("a@(0 0): 3000000000 5", "5 2 3", 4)
+            .shows("b: 1 2=1 2", "11b", 2)
+            .shows("b@(0 0): 1 0", "01b", 2)
+            .shows("b@(0 0): 7 0", "0 1", 4)
+            .shows("b: 1 2=1 2", "11b", 2)
+            .shows("b@(0 0): ('x';0)", "(0;1)", 7)
+            .shows("s: 'abc'", "'abc'", 3)
+            .shows("s@(1 1): 'xy'", "'ayc'", 3)
+            .shows("s@(1 1): (5;'z')", "('a';'z';'c')", 7)
+            .shows("z: 25#1", "1 1 1 1 1 1 1 1 1 1 1 1 1 1 1 1 1 1 1 1 1 1 1 1 1", 4)
+            .fails("z@(0 0): ('x';5)", 8, 1);
     }
 
     private static void nests() {
