@@ -218,7 +218,7 @@ public final class ArrayCalculator {
         if (pointed.isOne()) {
             return k == 0 ? pointed.num : 0;
         }
-        return k >= 0 && k < pointed.row.length ? pointed.row[k] : 0;
+        return pointed.numberAt(k);
     }
 
     public int print() {
@@ -274,81 +274,112 @@ public final class ArrayCalculator {
         return n >= Integer.MIN_VALUE && n <= Integer.MAX_VALUE;
     }
 
-    /** A value of any sort; it never changes, so values may share their rows and one another. */
+    /** A value of any sort; it never changes, so values may share their arrays and one another. */
     static final class Value {
         final int form;
         /** The number of ONE, and the error of a FAULT. */
         final long num;
-        /** The ONEs of a ROW, the numbers of a TABLE line by line; empty for others. */
+        /** Where the ONEs of a ROW stand, or the numbers of a TABLE line by line. */
         final long[] row;
+        /** Where the values of a NEST stand; null if there are none. */
+        final Value[] vals;
+        /** Where its own begin in row or vals; what stands around them is of other values. */
+        final int from;
+        final int many;
         /** The columns of a TABLE; 0 for others. */
         final int cols;
-        /** The values of a NEST; null for others. */
-        final Value[] vals;
-        final int many;
         final int size;
         final int levels;
 
-        private Value(int form, long num, long[] row, int cols, Value[] vals) {
+        private Value(int form, long num, long[] row, int from, int many, int cols) {
             this.form = form;
             this.num = num;
             this.row = row;
+            this.vals = null;
+            this.from = from;
+            this.many = many;
             this.cols = cols;
-            this.vals = vals;
-            int counted = 1;
-            int sized = 1 + row.length;
-            int levelled = 0;
-            if (vals != null) {
-                counted = vals.length;
-                for (int i = 0; i < vals.length; i++) {
-                    sized += vals[i].size;
-                    levelled = vals[i].levels > levelled ? vals[i].levels : levelled;
-                }
-                levelled++;
-            } else if (cols > 0) {
-                counted = row.length / cols;
-                levelled = 2;
+            if (form == TABLE) {
+                size = 1 + many * cols;
+                levels = 2;
             } else if (form >= BITS && form <= LONGS) {
-                counted = row.length;
-                levelled = 1;
+                size = 1 + many;
+                levels = 1;
+            } else {
+                size = 1;
+                levels = 0;
             }
-            many = counted;
+        }
+
+        private Value(Value[] vals, int from, int many) {
+            this.form = NEST;
+            this.num = 0;
+            this.row = NO_NUMBERS;
+            this.vals = vals;
+            this.from = from;
+            this.many = many;
+            this.cols = 0;
+            int sized = 1;
+            int levelled = 0;
+            for (int i = from; vals != null && i < from + many && i < vals.length; i++) {
+                sized += vals[i].size;
+                levelled = vals[i].levels > levelled ? vals[i].levels : levelled;
+            }
             size = sized;
-            levels = levelled;
+            levels = levelled + 1;
         }
 
         static Value number(long n) {
-            return new Value(NUMBER, n, NO_NUMBERS, 0, null);
+            return new Value(NUMBER, n, NO_NUMBERS, 0, 1, 0);
         }
 
         static Value sign(long n) {
-            return new Value(SIGN, n, NO_NUMBERS, 0, null);
+            return new Value(SIGN, n, NO_NUMBERS, 0, 1, 0);
         }
 
         static Value row(int form, long[] row) {
-            return new Value(form, 0, row, 0, null);
+            return new Value(form, 0, row, 0, row.length, 0);
+        }
+
+        static Value rowAt(int form, long[] row, int from, int many) {
+            return new Value(form, 0, row, from, many, 0);
         }
 
         static Value numberRow(long[] row) {
-            int form = INTS;
-            for (int i = 0; i < row.length; i++) {
-                if (!fitsInt(row[i])) {
-                    form = LONGS;
-                }
-            }
-            return new Value(form, 0, row, 0, null);
+            return new Value(formOf(row, 0, row.length), 0, row, 0, row.length, 0);
         }
 
-        static Value table(long[] numbers, int cols) {
-            return new Value(TABLE, 0, numbers, cols, null);
+        static Value numberRowAt(long[] row, int from, int many) {
+            return new Value(formOf(row, from, many), 0, row, from, many, 0);
+        }
+
+        private static int formOf(long[] row, int from, int many) {
+            for (int i = from; i < from + many && i < row.length; i++) {
+                if (row[i] < Integer.MIN_VALUE || row[i] > Integer.MAX_VALUE) {
+                    return LONGS;
+                }
+            }
+            return INTS;
+        }
+
+        static Value table(long[] numbers, int lines, int cols) {
+            return new Value(TABLE, 0, numbers, 0, lines, cols);
+        }
+
+        static Value tableAt(long[] numbers, int from, int lines, int cols) {
+            return new Value(TABLE, 0, numbers, from, lines, cols);
         }
 
         static Value nest(Value[] vals) {
-            return new Value(NEST, 0, NO_NUMBERS, 0, vals);
+            return new Value(vals, 0, vals.length);
+        }
+
+        static Value nestAt(Value[] vals, int from, int many) {
+            return new Value(vals, from, many);
         }
 
         static Value fault(int error) {
-            return new Value(FAULT, error, NO_NUMBERS, 0, null);
+            return new Value(FAULT, error, NO_NUMBERS, 0, 0, 0);
         }
 
         boolean isOne() {
@@ -376,25 +407,33 @@ public final class ArrayCalculator {
         /** The item at place i; ONE is its own item at any place, as acts spread it over others. */
         Value itemAt(int i) {
             if (form == NEST) {
-                return i >= 0 && i < vals.length ? vals[i] : this;
+                return valueAt(i);
             }
             if (isOne() || i < 0 || i >= many) {
                 return this;
             }
             if (form == TABLE) {
-                return new Value(INTS, 0, Arrays.copyOfRange(row, i * cols, i * cols + cols), 0, null);
+                return new Value(INTS, 0, row, from + i * cols, cols, 0);
             }
-            return new Value(form == SIGNS ? SIGN : NUMBER, row[i], NO_NUMBERS, 0, null);
+            return new Value(form == SIGNS ? SIGN : NUMBER, numberAt(i), NO_NUMBERS, 0, 1, 0);
+        }
+
+        /** Of a NEST its value at place i; others are spread over the NEST that they are paired with. */
+        Value valueAt(int i) {
+            return vals != null && i >= 0 && i < many && from + i < vals.length ? vals[from + i] : this;
         }
 
         /** The number at place i of a ROW or TABLE; that of ONE at any place. */
         long numberAt(int i) {
-            return i >= 0 && i < row.length ? row[i] : num;
+            return i >= 0 && i < size - 1 && from + i < row.length ? row[from + i] : num;
         }
 
         /** How many numbers or bytes it holds by itself, those of a NEST's values left out. */
         int numbers() {
-            return isOne() ? 1 : row.length;
+            if (form == NEST) {
+                return 0;
+            }
+            return form == NUMBER || form == SIGN ? 1 : size - 1;
         }
 
         /** The items at the first n of the places: as ROW of its KIND, TABLE or NEST. */
@@ -418,16 +457,15 @@ public final class ArrayCalculator {
             for (int i = 0; i < n; i++) {
                 picked[i] = numberAt(places[i]);
             }
-            return new Value(formPicked, 0, picked, 0, null);
+            return row(formPicked, picked);
         }
 
         private Value pickValues(int[] places, int n) {
             Value[] picked = new Value[n];
             for (int i = 0; i < n; i++) {
-                int at = places[i];
-                picked[i] = at >= 0 && at < vals.length ? vals[at] : this;
+                picked[i] = valueAt(places[i]);
             }
-            return new Value(NEST, 0, NO_NUMBERS, 0, picked);
+            return new Value(picked, 0, n);
         }
 
         private Value pickLines(int[] places, int n) {
@@ -435,7 +473,7 @@ public final class ArrayCalculator {
             for (int i = 0; i < picked.length; i++) {
                 picked[i] = numberAt(places[i / cols] * cols + i % cols);
             }
-            return new Value(TABLE, 0, picked, cols, null);
+            return new Value(TABLE, 0, picked, 0, n, cols);
         }
 
         private static boolean same(Value a, Value b) {
@@ -446,22 +484,25 @@ public final class ArrayCalculator {
                 return false;
             }
             if (a.form != NEST || b.form != NEST) {
-                return a.form != NEST && b.form != NEST && sameRun(a, 0, b, 0, a.row.length);
+                return a.form != NEST && b.form != NEST && sameRun(a, 0, b, 0, a.numbers());
             }
             for (int i = 0; i < a.many; i++) {
-                if (!same(a.vals[i], b.vals[i])) {
+                if (!same(a.valueAt(i), b.valueAt(i))) {
                     return false;
                 }
             }
             return true;
         }
 
+        /** Whether n numbers of a, from one on, and of b, from a start on, are the same. */
         private static boolean sameRun(Value a, int from, Value b, int start, int n) {
-            if (from < 0 || start < 0 || from + n > a.row.length || start + n > b.row.length) {
+            int i = a.from + from;
+            int j = b.from + start;
+            if (from < 0 || start < 0) {
                 return false;
             }
-            for (int i = 0; i < n; i++) {
-                if (a.row[from + i] != b.row[start + i]) {
+            for (int k = 0; k < n; k++) {
+                if (i + k >= a.row.length || j + k >= b.row.length || a.row[i + k] != b.row[j + k]) {
                     return false;
                 }
             }
@@ -1416,7 +1457,8 @@ public final class ArrayCalculator {
         private final int[] places = new int[MOST_NUMBERS];
         private final long[] numbers = new long[MOST_NUMBERS];
         private final Printer printer = new Printer(MOST_ONES + 1);
-        private int fault;
+        private final Paired paired = new Paired();
+        private final Value zero = Value.number(0);
 
         Value of(int verb, Value w) {
             switch (verb) {
@@ -1425,9 +1467,10 @@ public final class ArrayCalculator {
                 case '-':
                 case '%':
                 case '~':
-                    fault = 0;
-                    Value made = through(verb, w);
-                    return fault == 0 ? made : Value.fault(fault);
+                    // What goes THROUGH w asks and makes the same as if w were PAIRED with 0.
+                    paired.ready(verb == '%' ? Paired.WAY : verb);
+                    paired.ask(zero, w, 0);
+                    return paired.ends() ? Value.fault(paired.error()) : paired.make(zero, w);
                 case '*':
                     return w.many == 0 ? Value.fault(WRONG_COUNT) : w.itemAt(0);
                 case '&':
@@ -1462,52 +1505,13 @@ public final class ArrayCalculator {
         }
 
         private static Value flipped(Value w) {
-            long[] turned = new long[w.row.length];
+            long[] turned = new long[w.numbers()];
             for (int r = 0; r < w.many; r++) {
                 for (int c = 0; c < w.cols; c++) {
-                    turned[c * w.many + r] = w.row[r * w.cols + c];
+                    turned[c * w.many + r] = w.numberAt(r * w.cols + c);
                 }
             }
-            return Value.table(turned, w.many);
-        }
-
-        /** Goes through NESTS; fault is set where an item is none that the act takes. */
-        private Value through(int verb, Value w) {
-            if (w.form == NEST) {
-                Value[] vals = new Value[w.many];
-                for (int i = 0; i < vals.length; i++) {
-                    vals[i] = fault == 0 ? through(verb, w.vals[i]) : w;
-                }
-                return Value.nest(vals);
-            }
-            if (w.ofSigns() && w.many > 0) {
-                fault = WRONG_NUMBER;
-                return w;
-            }
-            if (w.isOne()) {
-                return Value.number(changed(verb, w.num, false));
-            }
-            long[] row = new long[w.row.length];
-            for (int i = 0; i < row.length; i++) {
-                row[i] = changed(verb, w.row[i], w.form == TABLE);
-            }
-            if (w.form == TABLE) {
-                return Value.table(row, w.cols);
-            }
-            return verb == '~' ? Value.row(BITS, row) : Value.numberRow(row);
-        }
-
-        private long changed(int verb, long n, boolean small) {
-            if (verb == '~') {
-                return n == 0 ? 1 : 0;
-            }
-            if (verb == '%') {
-                return Long.compare(n, 0);
-            }
-            if (n == Long.MIN_VALUE || (small && !fitsInt(-n))) {
-                fault = BEYOND;
-            }
-            return -n;
+            return Value.table(turned, w.cols, w.many);
         }
 
         private Value where(Value w) {
@@ -1519,7 +1523,7 @@ public final class ArrayCalculator {
             }
             int n = 0;
             for (int i = 0; i < w.many; i++) {
-                long often = w.row[i];
+                long often = w.numberAt(i);
                 if (often < 0) {
                     return Value.fault(WRONG_NUMBER);
                 }
@@ -1550,7 +1554,7 @@ public final class ArrayCalculator {
             }
             for (int i = 0; i < w.many; i++) {
                 int at = i;
-                while (at > 0 && isAhead(verb, w.row[i], w.row[places[at - 1]])) {
+                while (at > 0 && isAhead(verb, w.numberAt(i), w.numberAt(places[at - 1]))) {
                     places[at] = places[at - 1];
                     at--;
                 }
@@ -1579,16 +1583,18 @@ public final class ArrayCalculator {
             if (n > MOST_VALUES) {
                 return Value.fault(TOO_MANY);
             }
+            long[] row = new long[w.many];
             Value[] vals = new Value[n];
+            int end = 0;
             for (int g = 0; g < n; g++) {
-                int alike = 0;
+                int from = end;
                 for (int i = 0; i < w.many; i++) {
-                    if (w.row[i] == w.row[places[g]]) {
-                        numbers[alike] = i;
-                        alike++;
+                    if (w.numberAt(i) == w.numberAt(places[g])) {
+                        row[end] = i;
+                        end++;
                     }
                 }
-                vals[g] = Value.row(INTS, Arrays.copyOf(numbers, alike));
+                vals[g] = Value.rowAt(INTS, row, from, end - from);
             }
             return Value.nest(vals);
         }
@@ -1598,7 +1604,7 @@ public final class ArrayCalculator {
             int n = 0;
             for (int i = 0; i < w.many; i++) {
                 int at = 0;
-                while (at < n && w.row[i] != w.row[places[at]]) {
+                while (at < n && w.numberAt(i) != w.numberAt(places[at])) {
                     at++;
                 }
                 if (at == n) {
@@ -1754,8 +1760,9 @@ public final class ArrayCalculator {
                 case '.':
                     return inner(l, w);
                 default:
-                    paired.begin(verb);
-                    return paired.ended(paired.pair(l, w));
+                    paired.ready(verb);
+                    paired.ask(l, w, 0);
+                    return paired.ends() ? Value.fault(paired.error()) : paired.make(l, w);
             }
         }
 
@@ -1773,7 +1780,7 @@ public final class ArrayCalculator {
             }
             if (l.form == TABLE && w.form == TABLE && l.cols == w.cols) {
                 return l.many + w.many > MOST_LINES
-                    ? Value.fault(TOO_MANY) : Value.table(joinedNumbers(l, w), l.cols);
+                    ? Value.fault(TOO_MANY) : Value.table(joinedNumbers(l, w), l.many + w.many, l.cols);
             }
             if (l.many + w.many > MOST_VALUES) {
                 return Value.fault(TOO_MANY);
@@ -1832,7 +1839,7 @@ public final class ArrayCalculator {
                     return Value.fault(BEYOND);
                 }
             }
-            return Value.table(row, (int) cols);
+            return Value.table(row, (int) lines, (int) cols);
         }
 
         private Value dropped(Value l, Value w) {
@@ -1969,7 +1976,7 @@ public final class ArrayCalculator {
                 return Value.number(numbers[0]);
             }
             long[] row = Arrays.copyOf(numbers, lines * cols);
-            return small ? Value.table(row, cols) : Value.numberRow(row);
+            return small ? Value.table(row, lines, cols) : Value.numberRow(row);
         }
 
         /** Of the items of l from one on and those of w that stand a step from one another. */
@@ -2041,18 +2048,18 @@ public final class ArrayCalculator {
         }
 
         private Value amendedTable(Value l) {
-            long[] row = new long[l.row.length];
+            long[] row = new long[l.numbers()];
             for (int i = 0; i < row.length; i++) {
                 Value put = puts[i / l.cols];
-                row[i] = put == null ? l.row[i] : put.numberAt(i % l.cols);
+                row[i] = put == null ? l.numberAt(i) : put.numberAt(i % l.cols);
             }
-            return Value.table(row, l.cols);
+            return Value.table(row, l.many, l.cols);
         }
 
         private Value amendedRow(Value l, boolean bits) {
             long[] row = new long[l.many];
             for (int i = 0; i < row.length; i++) {
-                row[i] = puts[i] == null ? l.row[i] : puts[i].num;
+                row[i] = puts[i] == null ? l.numberAt(i) : puts[i].num;
             }
             if (l.form == SIGNS) {
                 return Value.row(SIGNS, row);
@@ -2072,68 +2079,126 @@ public final class ArrayCalculator {
         }
     }
 
-    /** The acts that are PAIRED. */
+    /**
+     * The acts that are PAIRED, and those that go THROUGH one value. All is asked ahead of making
+     * anything, as an error takes no WORK for what would have been made.
+     */
     static final class Paired {
-        private final long[] numbers = new long[MOST_NUMBERS];
+        /** The act % with one value; that of ~ with one has no namesake here. */
+        static final int WAY = 'w';
+
         private int verb;
         private int fault;
-        /** The SIZE of what is made so far. */
+        /** What the items come to, in their order; beyond the greatest SIZE they are left out. */
+        private final long[] numbers = new long[MOST_SIZE];
+        /** Of what is to be made: its SIZE and LEVELS, all its numbers, all values of its NESTS. */
         private int size;
+        private int levels;
+        private int numbersMany;
+        private int valuesMany;
+        /** Whether some of its numbers are those of a ROW or TABLE. */
+        private boolean rowed;
+        /** The arrays that all values which are made share, and how far they are used. */
+        private long[] row = NO_NUMBERS;
+        private Value[] vals;
+        private int numbersUsed;
+        private int valuesUsed;
 
-        void begin(int act) {
+        void ready(int act) {
             verb = act;
             fault = 0;
             size = 0;
+            levels = 0;
+            numbersMany = 0;
+            valuesMany = 0;
+            rowed = false;
+            numbersUsed = 0;
+            valuesUsed = 0;
         }
 
-        /** What pair made, or the error that it met. */
-        Value ended(Value made) {
-            if (fault != 0) {
-                return Value.fault(fault);
-            }
-            return size > MOST_SIZE ? Value.fault(TOO_MANY) : made;
-        }
-
-        /** Beyond the greatest SIZE nothing is made any more, but errors of items still come first. */
-        private Value pair(Value l, Value w) {
+        /** Asks all of l and w, around which so many NESTS stand. */
+        private void ask(Value l, Value w, int around) {
             if (l.form != NEST && w.form != NEST) {
-                return flat(l, w);
+                askFlat(l, w, around);
+                return;
             }
             if (l.form == NEST && w.form == NEST && l.many != w.many) {
                 fault = WRONG_COUNT;
-                return l;
+                return;
             }
-            Value[] vals = new Value[l.form == NEST ? l.many : w.many];
+            int many = l.form == NEST ? l.many : w.many;
             size++;
-            for (int i = 0; i < vals.length && fault == 0; i++) {
-                vals[i] = pair(l.form == NEST ? l.vals[i] : l, w.form == NEST ? w.vals[i] : w);
+            levels = Math.max(levels, around + 1);
+            valuesMany += many;
+            for (int i = 0; i < many && fault == 0; i++) {
+                ask(l.valueAt(i), w.valueAt(i), around + 1);
             }
-            return fault == 0 && size <= MOST_SIZE ? Value.nest(vals) : l;
         }
 
-        private Value flat(Value l, Value w) {
-            if (l.isOne() && w.isOne()) {
-                size++;
-                return Value.number(outcome(l, w, 0));
-            }
+        private void askFlat(Value l, Value w, int around) {
             fault = asked(l, w);
             Value like = l.isOne() ? w : l;
-            int n = like.row.length;
+            int n = like.numbers();
             for (int i = 0; i < n && fault == 0; i++) {
-                numbers[i] = outcome(l, w, i);
-                if (fault == 0 && like.form == TABLE && !fitsInt(numbers[i])) {
+                long number = outcome(l, w, i);
+                if (fault == 0 && like.form == TABLE && !fitsInt(number)) {
                     fault = BEYOND;
                 }
+                if (numbersMany < numbers.length) {
+                    numbers[numbersMany] = number;
+                    numbersMany++;
+                }
             }
-            size += 1 + n;
-            if (fault != 0 || size > MOST_SIZE) {
-                return l;
+            size += like.size;
+            levels = Math.max(levels, around + like.levels);
+            rowed = rowed || (n > 0 && !like.isOne());
+        }
+
+        /** Whether an error ends the act; if none does, all is ready for make. */
+        boolean ends() {
+            if (fault == 0 && (size > MOST_SIZE || levels > MOST_LEVELS)) {
+                fault = TOO_MANY;
             }
-            long[] row = Arrays.copyOf(numbers, n);
+            if (fault != 0) {
+                return true;
+            }
+            row = rowed ? Arrays.copyOf(numbers, numbersMany) : NO_NUMBERS;
+            vals = valuesMany == 0 ? null : new Value[valuesMany];
+            return false;
+        }
+
+        int error() {
+            return fault;
+        }
+
+        /** What comes of l and w, which have been asked. */
+        private Value make(Value l, Value w) {
+            if (l.form != NEST && w.form != NEST) {
+                return makeFlat(l.isOne() ? w : l);
+            }
+            int many = l.form == NEST ? l.many : w.many;
+            int from = valuesUsed;
+            valuesUsed += many;
+            for (int i = 0; i < many; i++) {
+                Value made = make(l.valueAt(i), w.valueAt(i));
+                if (vals != null && from + i < vals.length) {
+                    vals[from + i] = made;
+                }
+            }
+            return Value.nestAt(vals, from, many);
+        }
+
+        private Value makeFlat(Value like) {
+            int from = numbersUsed;
+            numbersUsed += like.numbers();
+            if (like.isOne()) {
+                return Value.number(from < numbers.length ? numbers[from] : 0);
+            }
             if (like.form == TABLE) {
-                return Value.table(row, like.cols);
+                return Value.tableAt(row, from, like.many, like.cols);
             }
-            return verb == '<' || verb == '>' || verb == '=' ? Value.row(BITS, row) : Value.numberRow(row);
+            boolean bits = verb == '<' || verb == '>' || verb == '=' || verb == '~';
+            return bits ? Value.rowAt(BITS, row, from, like.many) : Value.numberRowAt(row, from, like.many);
         }
 
         /** What is asked of two values, no NESTS, ahead of their items: an error, or 0. */
@@ -2182,6 +2247,10 @@ public final class ArrayCalculator {
                     return Math.min(a, b);
                 case '|':
                     return Math.max(a, b);
+                case '~':
+                    return b == 0 ? 1 : 0;
+                case WAY:
+                    return Long.compare(b, 0);
                 default:
                     fault = BAD_LINE;
                     return 0;
@@ -2324,11 +2393,11 @@ public final class ArrayCalculator {
 
         /** The numbers of a ROW or TABLE with what parts them; nothing parts BITS. */
         private void putNumbers(Value value) {
-            for (int i = 0; i < value.row.length; i++) {
+            for (int i = 0; i < value.numbers(); i++) {
                 if (i > 0 && value.form != BITS) {
                     add(value.cols > 0 && i % value.cols == 0 ? ';' : ' ');
                 }
-                putNumber(value.row[i]);
+                putNumber(value.numberAt(i));
             }
         }
 
