@@ -31,7 +31,7 @@ public final class AnyCallsTest {
     }
 
     private long run() {
-        Check check = new Check();
+        Check check = new Check().withAnyCalls();
         long answers = 0;
         for (int i = 0; i < 400; i++) {
             answers = answers * 31 + call(check);
