@@ -454,7 +454,7 @@ public final class ArrayCalculator {
                 formPicked = fitsInt(num) ? INTS : LONGS;
             }
             long[] picked = new long[n];
-            for (int i = 0; i < n; i++) {
+            for (int i = 0; i < n && i < places.length; i++) {
                 picked[i] = numberAt(places[i]);
             }
             return row(formPicked, picked);
@@ -462,7 +462,7 @@ public final class ArrayCalculator {
 
         private Value pickValues(int[] places, int n) {
             Value[] picked = new Value[n];
-            for (int i = 0; i < n; i++) {
+            for (int i = 0; i < n && i < places.length; i++) {
                 picked[i] = valueAt(places[i]);
             }
             return new Value(picked, 0, n);
@@ -470,8 +470,10 @@ public final class ArrayCalculator {
 
         private Value pickLines(int[] places, int n) {
             long[] picked = new long[n * cols];
-            for (int i = 0; i < picked.length; i++) {
-                picked[i] = numberAt(places[i / cols] * cols + i % cols);
+            for (int r = 0; r < n && r < places.length; r++) {
+                for (int c = 0; c < cols; c++) {
+                    picked[r * cols + c] = numberAt(places[r] * cols + c);
+                }
             }
             return new Value(TABLE, 0, picked, 0, n, cols);
         }
@@ -1229,6 +1231,10 @@ public final class ArrayCalculator {
             return stack[top];
         }
 
+        private Value stacked(int at) {
+            return at >= 0 && at < top ? stack[at] : Value.fault(NO_VALUE);
+        }
+
         private void fail(int why, Op op) {
             error = why;
             place = calls > 0 ? outerPlace : op.place;
@@ -1417,7 +1423,7 @@ public final class ArrayCalculator {
             int numbers = 0;
             int signs = 0;
             for (int i = 0; i < n; i++) {
-                int form = stack[from + i * step].form;
+                int form = stacked(from + i * step).form;
                 numbers += form == NUMBER ? 1 : 0;
                 signs += form == SIGN ? 1 : 0;
             }
@@ -1438,15 +1444,15 @@ public final class ArrayCalculator {
         private Value gatherRow(int from, int n, int step) {
             long[] row = new long[n];
             for (int i = 0; i < n; i++) {
-                row[i] = stack[from + i * step].num;
+                row[i] = stacked(from + i * step).num;
             }
-            return stack[from].form == SIGN ? Value.row(SIGNS, row) : Value.numberRow(row);
+            return stacked(from).form == SIGN ? Value.row(SIGNS, row) : Value.numberRow(row);
         }
 
         private Value gatherNest(int from, int n, int step) {
             Value[] vals = new Value[n];
             for (int i = 0; i < n; i++) {
-                vals[i] = stack[from + i * step];
+                vals[i] = stacked(from + i * step);
             }
             return Value.nest(vals);
         }
@@ -1815,7 +1821,7 @@ public final class ArrayCalculator {
                 return Value.fault(WRONG_COUNT);
             }
             int n = (int) Math.abs(l.num);
-            for (int i = 0; i < n; i++) {
+            for (int i = 0; i < n && w.many > 0; i++) {
                 places[l.num > 0 ? i : n - 1 - i] = l.num > 0 ? i % w.many : w.many - 1 - i % w.many;
             }
             return w.pick(places, n);
@@ -1963,10 +1969,13 @@ public final class ArrayCalculator {
             int cols = w.form == TABLE ? w.cols : 1;
             boolean small = l.form == TABLE && w.form == TABLE;
             fault = 0;
-            for (int i = 0; i < lines * cols && fault == 0; i++) {
-                numbers[i] = sumOfProducts(l, i / cols * along, w, i % cols, cols);
-                if (small && !fitsInt(numbers[i])) {
-                    fault = BEYOND;
+            for (int r = 0; r < lines && fault == 0; r++) {
+                for (int c = 0; c < cols && fault == 0; c++) {
+                    long sum = sumOfProducts(l, r * along, w, c, cols);
+                    numbers[r * cols + c] = sum;
+                    if (small && !fitsInt(sum)) {
+                        fault = BEYOND;
+                    }
                 }
             }
             if (fault != 0) {
@@ -2049,9 +2058,12 @@ public final class ArrayCalculator {
 
         private Value amendedTable(Value l) {
             long[] row = new long[l.numbers()];
-            for (int i = 0; i < row.length; i++) {
-                Value put = puts[i / l.cols];
-                row[i] = put == null ? l.numberAt(i) : put.numberAt(i % l.cols);
+            for (int r = 0; r < l.many; r++) {
+                Value put = puts[r];
+                for (int c = 0; c < l.cols; c++) {
+                    int i = r * l.cols + c;
+                    row[i] = put == null ? l.numberAt(i) : put.numberAt(c);
+                }
             }
             return Value.table(row, l.many, l.cols);
         }

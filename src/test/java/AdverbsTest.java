@@ -19,23 +19,28 @@ public final class AdverbsTest {
 
     private static void folded() {
         Doc.says("ADVERBS: f/ w FOLDED, of w's items i0, i1, ..: i0, then what f makes of that and i1, and so on (none: 4);")
-            .shows("+/1 2 3 4", "10", 0).shows("-/10 3 2", "5", 0).shows("+/7", "7", 0).shows("-/ 'a'", "'a'", 1).shows("+/,7", "7", 0)
-            .shows("-/1 2=1 3", "1", 0).shows("-/2 3#!6", "_3 _3 _3", 4).shows("+/1 3#!3", "0 1 2", 4).shows(",/(1;2 3;4)", "1 2 3 4", 4)
+            .shows("+/1 2 3 4", "10", 0).shows("-/10 3 2", "5", 0).shows("+/7", "7", 0).shows("-/ 'a'", "'a'", 1)
+            .shows("+/,7", "7", 0)
+            .shows("-/1 2=1 3", "1", 0).shows("-/2 3#!6", "_3 _3 _3", 4).shows("+/1 3#!3", "0 1 2", 4)
+            .shows(",/(1;2 3;4)", "1 2 3 4", 4)
             .shows(",/ 'abc'", "'abc'", 3).shows("+/,1 2", "1 2", 4)
-            .fails("+/!0", 4, 0).fails("+/()", 4, 0).fails("+/0# 'a'", 4, 0).fails("+/(1;'a';2)", 5, 0).fails("1+(+/ 'ab')", 5, 3);
+            .fails("+/!0", 4, 0).fails("+/()", 4, 0).fails("+/0# 'a'", 4, 0).fails("+/(1;'a';2)", 5, 0)
+            .fails("1+(+/ 'ab')", 5, 3);
     }
 
     private static void foldedFrom() {
         Doc.says("l f/ w: of l and i0 first, and so on (none: l).")
             .shows("10+/1 2 3", "16", 0).shows("10-/3", "7", 0).shows("10-/3 2", "5", 0).shows("1 2+/10 20", "31 32", 4)
-            .shows("10-/!0", "10", 0).shows("'a'+/()", "'a'", 1).shows("(1;'a')+/!0", "(1;'a')", 7).shows("1 2-/2 2#1 2 3 4", "_3 _4", 4)
+            .shows("10-/!0", "10", 0).shows("'a'+/()", "'a'", 1).shows("(1;'a')+/!0", "(1;'a')", 7)
+            .shows("1 2-/2 2#1 2 3 4", "_3 _4", 4)
             .shows("(),/1 2", "(1;2)", 7);
     }
 
     private static void run() {
         Doc.says("f\\ w, l f\\ w RUN: all that FOLDED comes to (i0, or l, first), in order, GATHERED.")
             .shows("+\\1 2 3 4", "1 3 6 10", 4).shows("-\\10 3 2", "10 7 5", 4).shows("+\\7", ",7", 4).shows("+\\ 'a'", ",'a'", 3)
-            .shows("10+\\1 2 3", "10 11 13 16", 4).shows("10-\\3", "10 7", 4).shows("10+\\!0", ",10", 4).shows("1 2+\\!0", "(1 2)", 7)
+            .shows("10+\\1 2 3", "10 11 13 16", 4).shows("10-\\3", "10 7", 4).shows("10+\\!0", ",10", 4)
+            .shows("1 2+\\!0", "(1 2)", 7)
             .shows(",\\1 2 3", "(1;1 2;1 2 3)", 7).shows("+\\2 2#1 2 3 4", "(1 2;4 6)", 7).shows("+\\,1 2", "(1 2)", 7)
             .shows("*\\5#1000", "1000 1000000 1000000000 1000000000000 1000000000000000", 5)
             .fails("+\\!0", 4, 0).fails("+\\()", 4, 0).fails("1+\\ 'a'", 5, 1)
@@ -44,7 +49,8 @@ public final class AdverbsTest {
 
     private static void each() {
         Doc.says("f' w EACH: f of each item, GATHERED;")
-            .shows("-'1 2 3", "_1 _2 _3", 4).shows("-'5", ",_5", 4).shows("#'(1 2;3;'abc')", "2 1 3", 4).shows("!'1 2", "(,0;0 1)", 7)
+            .shows("-'1 2 3", "_1 _2 _3", 4).shows("-'5", ",_5", 4).shows("#'(1 2;3;'abc')", "2 1 3", 4)
+            .shows("!'1 2", "(,0;0 1)", 7)
             .shows("-'!0", "()", 7).shows("-'()", "()", 7).shows("-'0# 'a'", "()", 7).shows("*'('ab';'cd')", "'ac'", 3)
             .shows("*'('ab';1 2)", "('a';1)", 7).shows("+'2 2#1 2 3 4", "(1 2;3 4)", 7).shows("~'0 1", "1 0", 4)
             .fails("-'(1;'a')", 5, 0).has("-'!120", 4, 120).has(",'!24", 7, 24).fails(",'!25", 8, 0);
@@ -54,10 +60,12 @@ public final class AdverbsTest {
         Doc.says("l f' w: of each item of l with that of w at its place (ONE on one side: with each; unlike COUNTs: 4), GATHERED.")
             .shows("1 2+'10 20", "11 22", 4).shows("1+'10 20", "11 21", 4).shows("1 2-'10", "_9 _8", 4).shows("1+'2", ",3", 4)
             .shows("1 2,'3 4", "(1 3;2 4)", 7).shows("1 2=' 'ab'", "0 0", 4).shows("(1 2;3),'4 5", "(1 2 4;3 5)", 7)
-            .shows("(2 2#1 2 3 4)+'10 20", "(11 12;23 24)", 7).shows("1 2#'(5 6;7 8)", "(,5;7 8)", 7).shows("'a',' 'bc'", "('ab';'ac')", 7)
+            .shows("(2 2#1 2 3 4)+'10 20", "(11 12;23 24)", 7).shows("1 2#'(5 6;7 8)", "(,5;7 8)", 7)
+            .shows("'a',' 'bc'", "('ab';'ac')", 7)
             .shows("(1 2;3 4)+'10", "(11 12;13 14)", 7).shows("10-'2 2#1 2 3 4", "(9 8;7 6)", 7)
             .shows("5+'!0", "()", 7).shows("()+'5", "()", 7).shows("(!0)+'()", "()", 7)
-            .fails("1 2+'1 2 3", 4, 3).fails("(,1)+'1 2 3", 4, 4).fails("(!0)+'1 2 3", 4, 4).fails("1 2+'!0", 4, 3).fails("(2 2#1)+'1 2 3", 4, 7)
+            .fails("1 2+'1 2 3", 4, 3).fails("(,1)+'1 2 3", 4, 4).fails("(!0)+'1 2 3", 4, 4).fails("1 2+'!0", 4, 3)
+            .fails("(2 2#1)+'1 2 3", 4, 7)
             .fails("1 2+' 'ab'", 5, 3);
     }
 
@@ -74,7 +82,8 @@ public final class AdverbsTest {
     private static void functions() {
         Doc.says("FUNCTIONS: f w: its expr with x w, without y; l f w: with x l, y w.")
             .does("f: {x*2}").shows("f 5", "10").shows("f 1 2", "2 4").shows("7 f 5", "14").shows("f'1 2 3", "2 4 6")
-            .does("g: {x+10*y}").shows("1 g 2", "21").shows("g/1 2 3", "51").shows("g\\1 2 3", "1 21 51").shows("1 g'2 3", "21 31")
+            .does("g: {x+10*y}").shows("1 g 2", "21").shows("g/1 2 3", "51").shows("g\\1 2 3", "1 21 51")
+            .shows("1 g'2 3", "21 31")
             .fails("g 5", 2, 0).fails("1 + g'5 6", 2, 4).does("h: {g/x}").shows("h 1 2 3", "51")
             .does("k: {(x;y;f x)}").fails("'a' k 3", 5, 4).shows("3 k 'a'", "(3;'a';6)")
             .does("z: 4", "m: {x+z}").shows("m 1", "5").does("z: 5").shows("m 1", "6")

@@ -52,7 +52,8 @@ public final class AmendTest {
     private static void onePlace() {
         Doc.says("w ONE number: v is put there;")
             .does("a: 1 2 3").shows("a@(1): 9", "1 9 3", 4).shows("a@(1): 8 9", "(1;8 9;3)", 7).shows("a@(1): ()", "(1;();3)", 7)
-            .shows("a@(0): ,7", "(,7;();3)", 7).shows("a@(2): 2 2#1", "(,7;();[1 1;1 1])", 7).shows("a@(2): 'xy'", "(,7;();'xy')", 7);
+            .shows("a@(0): ,7", "(,7;();3)", 7).shows("a@(2): 2 2#1", "(,7;();[1 1;1 1])", 7)
+            .shows("a@(2): 'xy'", "(,7;();'xy')", 7);
     }
 
     private static void onesAndItems() {
@@ -124,7 +125,8 @@ public final class AmendTest {
 
     private static void bits() {
         Doc.says("(BITS, if it was and 0 and 1 alone are put);")
-            .does("b: 1 2 3=1 2 4").shows("b@(2): 1", "111b", 2).shows("b@(0 1=1 1): 0", "001b", 2).shows("b@(1 2): 1 0", "010b", 2)
+            .does("b: 1 2 3=1 2 4").shows("b@(2): 1", "111b", 2).shows("b@(0 1=1 1): 0", "001b", 2)
+            .shows("b@(1 2): 1 0", "010b", 2)
             .shows("b@(!0): 7", "010b", 2).shows("b@(0): 2", "2 1 0", 4).shows("b@(0): 1", "1 1 0", 4)
             .does("b: 1 2=1 2").shows("b@(1): _1", "1 _1", 4).does("b: 1 2=1 2").shows("b@(0 1): 1 3000000000", "1 3000000000", 5)
             .does("b: 1 2=1 2").shows("b@(0): 'a'", "('a';1)", 7).does("b: 1 2=1 2").shows("b@(0): ,1", "(,1;1)", 7);
@@ -132,8 +134,10 @@ public final class AmendTest {
 
     private static void signs() {
         Doc.says("SIGNS with SIGNS alone are SIGNS;")
-            .does("s: 'hello'").shows("s@(0): 'j'", "'jello'", 3).shows("s@(1 4): 'ay'", "'jally'", 3).shows("s@(0 1): 'b'", "'bblly'", 3)
-            .shows("s@(!0): 1", "'bblly'", 3).does("e: 0# 'a'").shows("e@(!0): 1", "''", 3).does("z: 120# 'a'").has("z@(5): 'b'", 3, 120);
+            .does("s: 'hello'").shows("s@(0): 'j'", "'jello'", 3).shows("s@(1 4): 'ay'", "'jally'", 3)
+            .shows("s@(0 1): 'b'", "'bblly'", 3)
+            .shows("s@(!0): 1", "'bblly'", 3).does("e: 0# 'a'").shows("e@(!0): 1", "''", 3).does("z: 120# 'a'")
+            .has("z@(5): 'b'", 3, 120);
     }
 
     private static void nests() {

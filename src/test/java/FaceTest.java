@@ -275,6 +275,8 @@ public final class FaceTest {
         Check.same("stays at the row", check.printed(), "3 4");
         check.does("()");
         Check.same("point 2 from an empty NEST", calc.point(2, 0), false);
+        check.does("b: {x}");
+        Check.same("point to a name that stands for a function", calc.point(1, 0), false);
         check.does("'ab'");
         Check.same("point 2 from SIGNS", calc.point(2, 0), false);
         check.does("'a'");
@@ -489,13 +491,16 @@ public final class FaceTest {
     private static void lettersInOrder() {
         Check check = Doc.says("as they came to stand for one; NONE if there is none.");
         ArrayCalculator calc = check.calc;
+        calc.keep(1);
         check.does("zebra: 1", "abcdefgh: 2", "fun: {x}", "zebra: {y}");
         spells(calc, 0, 0, "abcdefgh");
+        spells(calc, 0, 1, "");
         spells(calc, 1, 0, "fun");
         spells(calc, 1, 1, "zebra");
         check.does("fun: 4");
         spells(calc, 0, 1, "fun");
         spells(calc, 1, 0, "zebra");
+        spells(calc, 1, 1, "");
         check.does("c: 7", "d: 8", "abcdefgh: {x+5}", "g: {x+6}", "c: 9");
         spells(calc, 0, 0, "fun");
         spells(calc, 0, 1, "c");
@@ -510,6 +515,9 @@ public final class FaceTest {
         spells(calc, 0, 0, "d");
         calc.back(0);
         spells(calc, 0, 0, "fun");
+        calc.back(1);
+        spells(calc, 0, 0, "");
+        spells(calc, 1, 0, "");
     }
 
     private static void spells(ArrayCalculator calc, int what, int i, String name) {

@@ -102,7 +102,8 @@ public final class LinesTest {
             .fails("f:{" + "[1;".repeat(12) + "x", 1, 36)
             .does("c: 1 0").shows("c@(".repeat(12) + "1" + marks, "1").fails("c@(".repeat(13) + "1)" + marks, 1, 38)
             .shows("(".repeat(11) + "c@(1)" + ")".repeat(11), "0").fails("(".repeat(12) + "c@(1)" + marks, 1, 14)
-            .does("c@(" + "(".repeat(11) + "1" + ")".repeat(11) + "):5").fails("c@(" + "(".repeat(12) + "1" + marks + "):5", 1, 14)
+            .does("c@(" + "(".repeat(11) + "1" + ")".repeat(11) + "):5")
+            .fails("c@(" + "(".repeat(12) + "1" + marks + "):5", 1, 14)
             // What is closed is open no more.
             .shows("(1)+(2)+(3)+(4)+(5)+(6)+(7)+(8)+(9)+(10)+(11)+(12)+(13)", "91")
             .does("c@(0):" + "(".repeat(12) + "1" + marks).fails("c@(0):" + "(".repeat(13) + "1)" + marks, 1, 18);

@@ -36,7 +36,8 @@ public final class PrintTest {
     private static void rows() {
         Doc.says("INTS, LONGS: their numbers, a blank between two (none: !0; one: a , ahead);")
             .shows("1 _2 3", "1 _2 3").shows("5 3000000000", "5 3000000000").shows("!0", "!0").shows("0#3000000000", "!0")
-            .shows(",5", ",5").shows(",_5", ",_5").shows(",3000000000", ",3000000000").shows("1#5 3000000000", ",5").shows("0 0", "0 0");
+            .shows(",5", ",5").shows(",_5", ",_5").shows(",3000000000", ",3000000000").shows("1#5 3000000000", ",5")
+            .shows("0 0", "0 0");
     }
 
     private static void bits() {

@@ -84,7 +84,8 @@ public final class TwoActsTest {
 
     private static void sums() {
         Doc.says("+ - * SUM, DIFFERENCE, PRODUCT, PAIRED (SIGNS 5; beyond 64 bits 6).")
-            .shows("5+_3", "2").shows("_5+_3", "_8").shows("_5-3", "_8").shows("5-_3", "8").shows("_3*4", "_12").shows("_3*_4", "12")
+            .shows("5+_3", "2").shows("_5+_3", "_8").shows("_5-3", "_8").shows("5-_3", "8").shows("_3*4", "_12")
+            .shows("_3*_4", "12")
             .fails("1+ 'a'", 5, 1).fails("'a'+1", 5, 3).fails("'a'- 'a'", 5, 3).fails("'ab'* 'ab'", 5, 4).fails("1 2- 'ab'", 5, 3)
             .fails("(2 2#1)+ 'a'", 5, 7).fails("(1;'a')+1", 5, 7).fails("0* 'a'", 5, 1);
     }
@@ -124,14 +125,17 @@ public final class TwoActsTest {
             .shows("2!1", "1").shows("_2!1", "_1").shows("2!_1", "1").shows("1!5", "0").shows("5!0", "0").shows("_5!0", "0")
             .shows("3!!7", "0 1 2 0 1 2 0", 4).shows("2 3!7 7", "1 1", 4).shows("2!2 2#!4", "[0 1;0 1]", 6)
             .shows("(2;3 4)!7", "(1;1 3)", 7)
-            .fails("0!1", 5, 1).fails("0!0", 5, 1).fails("1 0!1", 5, 3).fails("0! 'a'", 5, 1).fails("'a'!1", 5, 3).fails("1! 'a'", 5, 1)
-            .does(EDGES).shows("_1!n", "0").shows("1!n", "0").shows("m!n", "9223372036854775806").shows("n!m", "_1").shows("n!n", "0");
+            .fails("0!1", 5, 1).fails("0!0", 5, 1).fails("1 0!1", 5, 3).fails("0! 'a'", 5, 1).fails("'a'!1", 5, 3)
+            .fails("1! 'a'", 5, 1)
+            .does(EDGES).shows("_1!n", "0").shows("1!n", "0").shows("m!n", "9223372036854775806").shows("n!m", "_1")
+            .shows("n!n", "0");
     }
 
     private static void lesserAndGreater() {
         Doc.says("& LESSER, | GREATER, PAIRED (SIGNS 5).")
             .shows("3&5", "3").shows("5&3", "3").shows("3|5", "5").shows("5|3", "5").shows("1 5&3 2", "1 2", 4)
-            .shows("1 5|3 2", "3 5", 4).shows("_3000000000|1", "1", 0).shows("0|1 2#5 _5", "[5 0]", 6).shows("(1;5 _5)&0", "(0;0 _5)", 7)
+            .shows("1 5|3 2", "3 5", 4).shows("_3000000000|1", "1", 0).shows("0|1 2#5 _5", "[5 0]", 6)
+            .shows("(1;5 _5)&0", "(0;0 _5)", 7)
             .fails("'a'&1", 5, 3).fails("1| 'a'", 5, 1).fails("'a'& 'a'", 5, 3).fails("'ab'| 'ab'", 5, 4)
             .fails("(1 1#1)|2147483648", 6, 7);
     }
@@ -152,7 +156,8 @@ public final class TwoActsTest {
 
     private static void same() {
         Doc.says("~ whether they are SAME: ONE.")
-            .shows("1~1", "1", 0).shows("1~2", "0", 0).shows("1 2~1 2", "1", 0).shows("1 2~1 2 3", "0", 0).shows("'ab'~()", "0", 0)
+            .shows("1~1", "1", 0).shows("1~2", "0", 0).shows("1 2~1 2", "1", 0).shows("1 2~1 2 3", "0", 0)
+            .shows("'ab'~()", "0", 0)
             .shows("(2 2#1)~2 2#1", "1", 0).shows("(1;'a')~(1;'a')", "1", 0);
     }
 
@@ -160,7 +165,8 @@ public final class TwoActsTest {
         Doc.says(", JOINED: the items of l, then those of w: of numbers and rows of numbers: BITS, if both are BITS, else their "
                 + "NUMBER ROW; of SIGNS and rows of SIGNS a row of SIGNS")
             .shows("1,2", "1 2", 4).shows("1 2,3", "1 2 3", 4).shows("3,1 2", "3 1 2", 4).shows("(1=,1),0=,1", "10b", 2)
-            .shows("(1=,1),1", "1 1", 4).shows("1,1=,1", "1 1", 4).shows("(1=!0),!0", "!0", 4).shows("1,3000000000", "1 3000000000", 5)
+            .shows("(1=,1),1", "1 1", 4).shows("1,1=,1", "1 1", 4).shows("(1=!0),!0", "!0", 4)
+            .shows("1,3000000000", "1 3000000000", 5)
             .shows("(1#1 3000000000),2", "1 2", 4).shows("'a', 'b'", "'ab'", 3).shows("'ab', 'c'", "'abc'", 3)
             .shows("'c', 'ab'", "'cab'", 3).shows("(0# 'a'), 'c'", ",'c'", 3).shows("(!0),!0", "!0", 4);
         Doc.says("of TABLES with LINES of one length a TABLE")
@@ -175,13 +181,15 @@ public final class TwoActsTest {
     private static void joinedTooMany() {
         Doc.says("a row of SIGNS (more than 120: 8);")
             .has("(60#1),60#1", 4, 120).fails("(60#1),61#1", 8, 6).has("(119#1),1", 4, 120).fails("(120#1),1", 8, 7)
-            .has("(60# 'a'),60# 'a'", 3, 120).fails("(60# 'a'),61# 'a'", 8, 9).has("(1=!60),1=!60", 2, 120).fails("(1=!60),1=!61", 8, 7)
+            .has("(60# 'a'),60# 'a'", 3, 120).fails("(60# 'a'),61# 'a'", 8, 9).has("(1=!60),1=!60", 2, 120)
+            .fails("(1=!60),1=!61", 8, 7)
             .has("(120#1),!0", 4, 120);
         Doc.says("of TABLES with LINES of one length a TABLE (more than 12: 8);")
             .has("(6 2#1),6 2#1", 6, 12).fails("(6 2#1),7 2#1", 8, 7).has("(11 1#1),1 1#1", 6, 12).fails("(12 1#1),1 1#1", 8, 8)
             .has("(6 2#1),7 3#1", 7, 13);
         Doc.says("else a NEST of the items (more than 24: 8).")
-            .has("(12#2),12# 'a'", 7, 24).fails("(12#2),13# 'a'", 8, 6).fails("(24#(1;'a')),1", 8, 12).has("(23#(1;'a')),1", 7, 24)
+            .has("(12#2),12# 'a'", 7, 24).fails("(12#2),13# 'a'", 8, 6).fails("(24#(1;'a')),1", 8, 12)
+            .has("(23#(1;'a')),1", 7, 24)
             .fails("(25#1),()", 8, 6).has("(24#1),()", 7, 24).fails("(12 2#1),13#1", 8, 8);
     }
 
@@ -207,7 +215,8 @@ public final class TwoActsTest {
     private static void takenSorts() {
         Doc.says("a ROW of w's KIND (of ONE as of a ROW of it), a NEST (more than 24: 8), a TABLE (n 0: 5; more than 12: 8).")
             .shows("3#1 2=1 3", "101b", 2).shows("0#1=1 2", "b", 2).shows("3# 'ab'", "'aba'", 3).shows("1#1 3000000000", ",1", 5)
-            .shows("0#7", "!0", 4).shows("0#3000000000", "!0", 5).shows("1#3000000000", ",3000000000", 5).shows("2# 'a'", "'aa'", 3)
+            .shows("0#7", "!0", 4).shows("0#3000000000", "!0", 5).shows("1#3000000000", ",3000000000", 5)
+            .shows("2# 'a'", "'aa'", 3)
             .shows("0# 'a'", "''", 3).shows("1# 'a'", ",'a'", 3).shows("2#2147483647", "2147483647 2147483647", 4)
             .shows("2#(1;'a';2)", "(1;'a')", 7).shows("1#(1;'a';2)", "(1)", 7).shows("0#(1;'a')", "()", 7)
             .has("24#(1;'a')", 7, 24).fails("25#(1;'a')", 8, 2).has("_24#(1;'a')", 7, 24).fails("_25#(1;'a')", 8, 3)
@@ -219,7 +228,8 @@ public final class TwoActsTest {
         Doc.says("l a ROW of two numbers r, c (each 1 to 12, else 5): the TABLE of r LINES of c of the numbers of w (ONE, a ROW, a "
                 + "TABLE line by line), again and again")
             .shows("2 3#1 2 3 4", "[1 2 3;4 1 2]", 6).shows("1 2#5 6 7", "[5 6]", 6).shows("2 2#7", "[7 7;7 7]", 6)
-            .shows("1 1#2 2#5 6 7 8", "[5]", 6).shows("3 2#2 2#5 6 7 8", "[5 6;7 8;5 6]", 6).shows("1 5#2 2#5 6 7 8", "[5 6 7 8 5]", 6)
+            .shows("1 1#2 2#5 6 7 8", "[5]", 6).shows("3 2#2 2#5 6 7 8", "[5 6;7 8;5 6]", 6)
+            .shows("1 5#2 2#5 6 7 8", "[5 6 7 8 5]", 6)
             .shows("2 2#1 2=1 3", "[1 0;1 0]", 6).shows("(1 1=1 1)#5", "[5]", 6).shows("(2#2 3 3000000000)#7", "[7 7 7;7 7 7]", 6)
             .has("12 12#1", 6, 12).has("12 1#1", 6, 12).has("1 12#1", 6, 1)
             .fails("13 1#1", 5, 4).fails("1 13#1", 5, 4).fails("0 1#1", 5, 3).fails("1 0#1", 5, 3).fails("_1 1#1", 5, 4)
@@ -228,7 +238,8 @@ public final class TwoActsTest {
 
     private static void tablesTakenWrong() {
         Doc.says("(a NEST 3; SIGNS 5; none 4; beyond 32 bits 6).")
-            .fails("2 2#()", 3, 3).fails("2 2#(1;'a')", 3, 3).fails("0 0#()", 3, 3).fails("2 2# 'a'", 5, 3).fails("2 2# 'ab'", 5, 3)
+            .fails("2 2#()", 3, 3).fails("2 2#(1;'a')", 3, 3).fails("0 0#()", 3, 3).fails("2 2# 'a'", 5, 3)
+            .fails("2 2# 'ab'", 5, 3)
             .fails("2 2#0# 'a'", 5, 3).fails("2 2#!0", 4, 3).fails("2 2#0#3000000000", 4, 3).fails("0 2#!0", 5, 3)
             .fails("2 2#1 2147483648", 6, 3).fails("2 2#_2147483649", 6, 3).shows("1 1#1 3000000000", "[1]", 6)
             .shows("1 2#2147483647 _2147483648", "[2147483647 _2147483648]", 6).fails("1 3#1 2 3000000000", 6, 3);
@@ -241,14 +252,17 @@ public final class TwoActsTest {
             .shows("3 _ 5 6 7", "!0", 4).shows("4 _ 5 6 7", "!0", 4).shows("_3 _ 5 6 7", "!0", 4).shows("_4 _ 5 6 7", "!0", 4)
             .shows("999999999999999999 _ 5 6 7", "!0", 4).shows("_999999999999999999 _ 5 6 7", "!0", 4)
             .shows("4294967296 _ 5 6", "!0", 4).shows("_4294967296 _ 5 6", "!0", 4)
-            .shows("0 _ 5", ",5", 4).shows("1 _ 5", "!0", 4).shows("0 _ 3000000000", ",3000000000", 5).shows("_1 _ 3000000000", "!0", 5)
+            .shows("0 _ 5", ",5", 4).shows("1 _ 5", "!0", 4).shows("0 _ 3000000000", ",3000000000", 5)
+            .shows("_1 _ 3000000000", "!0", 5)
             .shows("0 _ 'a'", ",'a'", 3).shows("1 _ 'a'", "''", 3).shows("1 _ 'abc'", "'bc'", 3).shows("1 _ 1 2=1 2", "1b", 2)
-            .shows("2 _ 3000000000 1 2", ",2", 5).shows("1 _ (1;'a';2)", "('a';2)", 7).shows("9 _ ()", "()", 7).shows("2 _ (1;'a')", "()", 7);
+            .shows("2 _ 3000000000 1 2", ",2", 5).shows("1 _ (1;'a';2)", "('a';2)", 7).shows("9 _ ()", "()", 7)
+            .shows("2 _ (1;'a')", "()", 7);
         Check.of("DROPPED: of a TABLE no LINE left: 4; l");
         new Check()
             .shows("1 _ 2 2#1 2 3 4", "[3 4]", 6).shows("_1 _ 2 2#1 2 3 4", "[1 2]", 6).shows("0 _ 2 2#1 2 3 4", "[1 2;3 4]", 6)
             .fails("2 _ 2 2#1 2 3 4", 4, 2).fails("_2 _ 2 2#1 2 3 4", 4, 3).fails("_9 _ 2 2#1 2 3 4", 4, 3)
-            .fails("'a' _ 1 2", 5, 4).fails("(,1) _ 1 2", 3, 5).fails("1 2 _ 1 2", 3, 4).fails("() _ 1", 3, 3).fails("'ab' _ 1", 3, 5)
+            .fails("'a' _ 1 2", 5, 4).fails("(,1) _ 1 2", 3, 5).fails("1 2 _ 1 2", 3, 4).fails("() _ 1", 3, 3)
+            .fails("'ab' _ 1", 3, 5)
             .fails("(1 1#1) _ 1", 3, 8).does(EDGES).shows("n _ 1 2", "!0", 4).shows("m _ 1 2", "!0", 4);
     }
 
@@ -257,9 +271,11 @@ public final class TwoActsTest {
                 + "no ROW;")
             .shows("5 6 7?6", "1", 0).shows("5 6 7?9", "3", 0).shows("5 6 5?5", "0", 0).shows("5 6 7? 'a'", "3", 0)
             .shows("'abc'? 'b'", "1", 0).shows("'abc'?98", "3", 0).shows("(!0)?5", "0", 0).shows("(1 2=1 3)?0", "1", 0)
-            .shows("1 3000000000?3000000000", "1", 0).fails("5?5", 3, 1).fails("'a'?5", 3, 3).fails("5?()", 3, 1).fails("5?5 6", 3, 1);
+            .shows("1 3000000000?3000000000", "1", 0).fails("5?5", 3, 1).fails("'a'?5", 3, 3).fails("5?()", 3, 1)
+            .fails("5?5 6", 3, 1);
         Doc.says("l a ROW, w a ROW: INTS, of each of w's items; l a ROW, w a TABLE or NEST: 3.")
-            .shows("5 6 7?7 5 1", "2 0 3", 4).shows("'abc'? 'cx'", "2 3", 4).shows("'abc'?99 98", "3 3", 4).shows("5 6?!0", "!0", 4)
+            .shows("5 6 7?7 5 1", "2 0 3", 4).shows("'abc'? 'cx'", "2 3", 4).shows("'abc'?99 98", "3 3", 4)
+            .shows("5 6?!0", "!0", 4)
             .shows("5 6? 'ab'", "2 2", 4).shows("5 6?,6", ",1", 4).shows("5 6?0# 'a'", "!0", 4).shows("(!0)?1 2", "0 0", 4)
             .shows("0 1 3000000000?1 2=1 3", "1 0", 4)
             .fails("1 2?()", 3, 3).fails("1 2?(1;'a')", 3, 3).fails("1 2?2 2#1", 3, 3).fails("'ab'?,1 2", 3, 4);
@@ -280,7 +296,8 @@ public final class TwoActsTest {
         Doc.says("w ONE: that item; a ROW: those items, a ROW of l's KIND, a NEST (more than 24: 8), a TABLE (none: 4; more than "
                 + "12: 8).")
             .shows("5 6 7@2", "7", 0).shows("5 6 7@0 0 2", "5 5 7", 4).shows("'abc'@1", "'b'", 1).shows("'abc'@2 0", "'ca'", 3)
-            .shows("'abc'@!0", "''", 3).shows("5 6@1 2=1 3", "6 5", 4).shows("(1 0=1 1)@0 0", "11b", 2).shows("(1 0=1 1)@0", "1", 0)
+            .shows("'abc'@!0", "''", 3).shows("5 6@1 2=1 3", "6 5", 4).shows("(1 0=1 1)@0 0", "11b", 2)
+            .shows("(1 0=1 1)@0", "1", 0)
             .shows("5 3000000000@,0", ",5", 5).shows("5 3000000000@0", "5", 0).has("(,5)@120#0", 4, 120)
             .shows("(1;'a';2 3)@2", "2 3", 4).shows("(1;'a';2 3)@0 2", "(1;2 3)", 7).shows("(1;'a';2 3)@!0", "()", 7)
             .has("(1;'a')@24#0", 7, 24).fails("(1;'a')@25#0", 8, 7).shows("(2 2#1 2 3 4)@1", "3 4", 4)
@@ -291,20 +308,25 @@ public final class TwoActsTest {
     private static void atSorts() {
         Doc.says("@ AT: l ONE: 3; w a TABLE or NEST: 3, SIGNS: 5; a place that isn't there: 7.")
             .fails("5@0", 3, 1).fails("'a'@0", 3, 3).fails("5@ 'a'", 3, 1).fails("5@!0", 3, 1).fails("5 6@,()", 3, 3)
-            .fails("5 6@2 2#0", 3, 3).fails("()@2 2#0", 3, 2).fails("5 6@ 'a'", 5, 3).fails("5 6@ 'ab'", 5, 3).fails("5 6@0# 'ab'", 5, 3)
-            .fails("5 6@2", 7, 3).fails("5 6@_1", 7, 3).fails("5 6@0 2", 7, 3).fails("5 6@2 0", 7, 3).fails("5 6@4294967296", 7, 3)
-            .fails("5 6@_4294967296", 7, 3).fails("(!0)@0", 7, 4).fails("()@0", 7, 2).fails("(1;'a')@2", 7, 7).fails("(2 2#1)@2", 7, 7)
+            .fails("5 6@2 2#0", 3, 3).fails("()@2 2#0", 3, 2).fails("5 6@ 'a'", 5, 3).fails("5 6@ 'ab'", 5, 3)
+            .fails("5 6@0# 'ab'", 5, 3)
+            .fails("5 6@2", 7, 3).fails("5 6@_1", 7, 3).fails("5 6@0 2", 7, 3).fails("5 6@2 0", 7, 3)
+            .fails("5 6@4294967296", 7, 3)
+            .fails("5 6@_4294967296", 7, 3).fails("(!0)@0", 7, 4).fails("()@0", 7, 2).fails("(1;'a')@2", 7, 7)
+            .fails("(2 2#1)@2", 7, 7)
             .fails("(1;'a')@25#2", 7, 7).fails("(2 2#1)@13#2", 7, 7);
     }
 
     private static void fit() {
         Doc.says("$ FIT: l ONE (else 3), a number n of -120 to 120 (else 5), w SIGNS, or ONE SIGN (else 5): cut, or with blanks "
                 + "behind, to n signs; below 0 to the last -n, or with blanks ahead.")
-            .shows("5$ 'abc'", "'abc  '", 3).shows("3$ 'abc'", "'abc'", 3).shows("2$ 'abc'", "'ab'", 3).shows("_5$ 'abc'", "'  abc'", 3)
+            .shows("5$ 'abc'", "'abc  '", 3).shows("3$ 'abc'", "'abc'", 3).shows("2$ 'abc'", "'ab'", 3)
+            .shows("_5$ 'abc'", "'  abc'", 3)
             .shows("_3$ 'abc'", "'abc'", 3).shows("_2$ 'abc'", "'bc'", 3).shows("0$ 'abc'", "''", 3).shows("1$ 'a'", ",'a'", 3)
             .shows("_3$ 'a'", "'  a'", 3).shows("2$ 'a'", "'a '", 3).shows("2$0# 'a'", "'  '", 3).shows("_2$0# 'a'", "'  '", 3)
             .has("120$ 'a'", 3, 120).has("_120$ 'a'", 3, 120).fails("121$ 'a'", 5, 3).fails("_121$ 'a'", 5, 4)
-            .fails("4294967296$ 'a'", 5, 10).fails("'a'$ 'a'", 5, 3).fails("(,1)$ 'a'", 3, 4).fails("1 2$1", 3, 3).fails("()$ 'a'", 3, 2)
+            .fails("4294967296$ 'a'", 5, 10).fails("'a'$ 'a'", 5, 3).fails("(,1)$ 'a'", 3, 4).fails("1 2$1", 3, 3)
+            .fails("()$ 'a'", 3, 2)
             .fails("1$1", 5, 1).fails("1$1 2", 5, 1).fails("1$()", 5, 1).fails("1$2 2#1", 5, 1).fails("1$!0", 5, 1);
     }
 
@@ -312,11 +334,14 @@ public final class TwoActsTest {
         Doc.says("^ WITHOUT: l ONE: 3; the items of l that aren't SAME as any of w's: a ROW of l's KIND, a NEST, a TABLE (none: 4).")
             .shows("1 2 3 2^2", "1 3", 4).shows("1 2 3^3 1", ",2", 4).shows("1 2^1 2", "!0", 4).shows("1 2^ 'a'", "1 2", 4)
             .shows("97 98^ 'a'", "97 98", 4).shows("'hello'^ 'l'", "'heo'", 3).shows("'hello'^ 'eo'", "'hll'", 3)
-            .shows("'ab'^97", "'ab'", 3).shows("(1 0=1 1)^0", "1b", 2).shows("1 3000000000^3000000000", ",1", 5).shows("(!0)^5", "!0", 4)
+            .shows("'ab'^97", "'ab'", 3).shows("(1 0=1 1)^0", "1b", 2).shows("1 3000000000^3000000000", ",1", 5)
+            .shows("(!0)^5", "!0", 4)
             .shows("1 2^()", "1 2", 4).shows("1 2^(1;'a')", ",2", 4).shows("1 2^1 2#1 2", "1 2", 4)
-            .shows("(1;'a';2 3)^ 'a'", "(1;2 3)", 7).shows("(1;'a';2 3)^,2 3", "(1;'a')", 7).shows("(1;'a';2 3)^2 3", "(1;'a';2 3)", 7)
+            .shows("(1;'a';2 3)^ 'a'", "(1;2 3)", 7).shows("(1;'a';2 3)^,2 3", "(1;'a')", 7)
+            .shows("(1;'a';2 3)^2 3", "(1;'a';2 3)", 7)
             .shows("(1;'a')^(1;'a')", "()", 7).shows("(1 2;3)^1 2#1 2", "(3)", 7).shows("()^1", "()", 7)
-            .shows("(2 2#1 2 3 4)^,1 2", "[3 4]", 6).shows("(2 2#1 2 3 4)^1 2#3 4", "[1 2]", 6).shows("(2 2#1 2 3 4)^1 2", "[1 2;3 4]", 6)
+            .shows("(2 2#1 2 3 4)^,1 2", "[3 4]", 6).shows("(2 2#1 2 3 4)^1 2#3 4", "[1 2]", 6)
+            .shows("(3 2#!6)^2 2#9 9 2 3", "[0 1;4 5]", 6).shows("(2 2#1 2 3 4)^1 2", "[1 2;3 4]", 6)
             .fails("(2 2#1 2)^,1 2", 4, 9).fails("(2 2#1)^2 2#1", 4, 7).fails("5^5", 3, 1).fails("'a'^5", 3, 3);
     }
 
@@ -325,7 +350,8 @@ public final class TwoActsTest {
                 + "ONE;")
             .shows("1 2 3 . 4 5 6", "32", 0).shows("(!0) . !0", "0", 0).shows("(1 1=1 0) . 5 6", "5", 0).shows("(,3).,4", "12", 0)
             .shows("3000000000 1 . 1 1", "3000000001", 0).shows("_1 2 . 3 4", "5", 0)
-            .fails("1 . 1 2", 3, 2).fails("1 2 . 1", 3, 4).fails("1 2 . ()", 3, 4).fails("() . 1 2", 3, 3).fails("'a' . 1 2", 3, 4)
+            .fails("1 . 1 2", 3, 2).fails("1 2 . 1", 3, 4).fails("1 2 . ()", 3, 4).fails("() . 1 2", 3, 3)
+            .fails("'a' . 1 2", 3, 4)
             .fails("1 2 . 'a'", 3, 4).fails("'ab' . 1", 3, 5).fails("(2 2#1) . 1", 3, 8).fails("'ab' . 1 2", 5, 5)
             .fails("1 2 . 'ab'", 5, 4).fails("(0# 'a') . !0", 5, 9).fails("(2 2#1) . 'ab'", 5, 8).fails("'ab' . 'ab'", 5, 5);
     }
@@ -333,9 +359,12 @@ public final class TwoActsTest {
     private static void innerTables() {
         Doc.says("a TABLE with a ROW: that of each LINE with it, a ROW with a TABLE that of it with each column, a NUMBER ROW; a TABLE "
                 + "with a TABLE that of each LINE of l with each column of w: a TABLE; as many on both sides (else 4);")
-            .shows("(2 3#!6) . 1 2 3", "8 26", 4).shows("1 2 . 2 3#!6", "6 9 12", 4).shows("(2 3#!6) . 3 2#!6", "[10 13;28 40]", 6)
-            .shows("(2 1#1 2) . 1 3#3 4 5", "[3 4 5;6 8 10]", 6).shows("(1 2#1 2) . 2 1#3 4", "[11]", 6).shows("(1 2#1 2) . 3 4", ",11", 4)
-            .shows("1 2 . 2 1#3 4", ",11", 4).shows("(2 2#1) . 4294967296 1", "4294967297 4294967297", 5).has("(12 12#1) . 12 12#1", 6, 12)
+            .shows("(2 3#!6) . 1 2 3", "8 26", 4).shows("1 2 . 2 3#!6", "6 9 12", 4)
+            .shows("(2 3#!6) . 3 2#!6", "[10 13;28 40]", 6)
+            .shows("(2 1#1 2) . 1 3#3 4 5", "[3 4 5;6 8 10]", 6).shows("(1 2#1 2) . 2 1#3 4", "[11]", 6)
+            .shows("(1 2#1 2) . 3 4", ",11", 4)
+            .shows("1 2 . 2 1#3 4", ",11", 4).shows("(2 2#1) . 4294967296 1", "4294967297 4294967297", 5)
+            .has("(12 12#1) . 12 12#1", 6, 12)
             .fails("1 2 . 1 2 3", 4, 4).fails("(2 3#1) . 1 2", 4, 8).fails("1 2 3 . 2 3#1", 4, 6).fails("(2 3#1) . 2 3#1", 4, 8)
             .fails("(!0) . ,1", 4, 5).fails("(2 3#1) . !0", 4, 8).fails("1 2 3 . 'ab'", 5, 6);
     }
