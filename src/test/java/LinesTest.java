@@ -225,6 +225,12 @@ public final class LinesTest {
             values.does((char) ('a' + i % 20) + (i < 20 ? "p" : "q") + ":" + i);
         }
         values.fails("new: 1", 8, 0).fails("new: {x}", 8, 0).does("ap: 7", "bp: {x}").fails("new: 1", 8, 0);
+        Check functions = new Check();
+        for (int i = 0; i < 40; i++) {
+            functions.does((char) ('a' + i % 20) + (i < 20 ? "p" : "q") + ":{x+" + i + "}");
+        }
+        functions.fails("new: 1", 8, 0).fails("new: {x}", 8, 0).does("ap: 7", "tq: 8").fails("new: {x}", 8, 0)
+            .shows("(ap;bp 1;sq 1;tq)", "7 2 39 8");
     }
 
     private static void places() {
@@ -251,11 +257,21 @@ public final class LinesTest {
             .shows("a", "5 6").fails("f: {", 1, 4).shows("f 1", "2");
         Check.same("values", check.calc.names(0), 1);
         Check.same("functions", check.calc.names(1), 1);
+        manyErrors();
         check = Doc.says("Otherwise its value is the RESULT (of a function told the RESULT stays).")
             .shows("7", "7").shows("a: 8", "8").does("a: 8 9").shows("a@(0): 1", "1 9").shows("f: {x}", "1 9");
         Check.same("it took nothing", check.calc.told(2), 0);
         check.fails("1+", 1, 2).fails("nil", 2, 0).fails("b: 1+ 'a'", 5, 4);
         Check.same("an error leaves the RESULT", check.printed(), "1 9");
+    }
+
+    /** Lines that come to an error with all but one of 120 values made leave nothing of them behind. */
+    private static void manyErrors() {
+        Check check = new Check().does("m: 854775807+9223372036*1000000000", "r: (118#1),m");
+        for (int i = 0; i < 100; i++) {
+            check.fails("0+\\r", 6, 1);
+        }
+        check.shows("+/0+\\!5", "20").shows("(1;(2;'a'))", "(1;(2;'a'))");
     }
 
     private static void errors() {
@@ -264,6 +280,8 @@ public final class LinesTest {
             .fails("1+", 1, 2).fails("nil", 2, 0).fails("x", 2, 0).fails("1+y", 2, 2).does("f: {y}", "g: {f x}", "h: {x f 1}")
             .fails("f 1", 2, 0).shows("1 f 2", "2").fails("2 g 1", 2, 2).shows("h 5", "1").fails("f'1 2", 2, 0)
             .shows("f/1 2", "2").does("f: 5").fails("g 1", 2, 0).fails("x", 2, 0)
+            // A call that an error has ended leaves no x and y behind.
+            .does("k: {x+y+ 'a'}").fails("1 k 2", 5, 2).fails("y", 2, 0).fails("x", 2, 0)
             // The x of a call is the x of that call alone.
             .does("i: {x}", "j: {(i 9)+x}", "l: {(i 9)+y}").shows("j 1", "10").fails("l 1", 2, 0).shows("7 l 1", "10");
         Doc.says("3 a value of a sort that the act doesn't take; 4 unlike COUNTs, or no items; 5 a SIGN where a NUMBER is "

@@ -207,6 +207,7 @@ public final class TwoActsTest {
         Doc.says("again and again from the beginning, or from the end, if there are fewer (none, and n not 0: 4):")
             .shows("5#1 2 3", "1 2 3 1 2", 4).shows("_5#1 2 3", "2 3 1 2 3", 4).shows("7#1 2 3", "1 2 3 1 2 3 1", 4)
             .shows("_7#1 2 3", "3 1 2 3 1 2 3", 4).shows("3#7", "7 7 7", 4).shows("_3#7", "7 7 7", 4)
+            .shows("3#,7", "7 7 7", 4).shows("_3#,7", "7 7 7", 4).shows("2#,1 2", "(1 2;1 2)", 7)
             .shows("_3#2 2#1 2 3 4", "[3 4;1 2;3 4]", 6).shows("_3#(1;'a')", "('a';1;'a')", 7)
             .fails("1#()", 4, 1).fails("_1#!0", 4, 2).fails("3#0# 'a'", 4, 1).fails("25#()", 4, 2).shows("0#()", "()", 7)
             .shows("0#!0", "!0", 4);
@@ -322,7 +323,8 @@ public final class TwoActsTest {
                 + "behind, to n signs; below 0 to the last -n, or with blanks ahead.")
             .shows("5$ 'abc'", "'abc  '", 3).shows("3$ 'abc'", "'abc'", 3).shows("2$ 'abc'", "'ab'", 3)
             .shows("_5$ 'abc'", "'  abc'", 3)
-            .shows("_3$ 'abc'", "'abc'", 3).shows("_2$ 'abc'", "'bc'", 3).shows("0$ 'abc'", "''", 3).shows("1$ 'a'", ",'a'", 3)
+            .shows("_3$ 'abc'", "'abc'", 3).shows("_2$ 'abc'", "'bc'", 3)
+            .shows("1$ 'abc'", ",'a'", 3).shows("_1$ 'abc'", ",'c'", 3).shows("0$ 'abc'", "''", 3).shows("1$ 'a'", ",'a'", 3)
             .shows("_3$ 'a'", "'  a'", 3).shows("2$ 'a'", "'a '", 3).shows("2$0# 'a'", "'  '", 3).shows("_2$0# 'a'", "'  '", 3)
             .has("120$ 'a'", 3, 120).has("_120$ 'a'", 3, 120).fails("121$ 'a'", 5, 3).fails("_121$ 'a'", 5, 4)
             .fails("4294967296$ 'a'", 5, 10).fails("'a'$ 'a'", 5, 3).fails("(,1)$ 'a'", 3, 4).fails("1 2$1", 3, 3)
@@ -332,7 +334,7 @@ public final class TwoActsTest {
 
     private static void without() {
         Doc.says("^ WITHOUT: l ONE: 3; the items of l that aren't SAME as any of w's: a ROW of l's KIND, a NEST, a TABLE (none: 4).")
-            .shows("1 2 3 2^2", "1 3", 4).shows("1 2 3^3 1", ",2", 4).shows("1 2^1 2", "!0", 4).shows("1 2^ 'a'", "1 2", 4)
+            .shows("1 2 3 2^2", "1 3", 4).shows("0 1^5", "0 1", 4).shows("0 1^!0", "0 1", 4).shows("1 2 3^3 1", ",2", 4).shows("1 2^1 2", "!0", 4).shows("1 2^ 'a'", "1 2", 4)
             .shows("97 98^ 'a'", "97 98", 4).shows("'hello'^ 'l'", "'heo'", 3).shows("'hello'^ 'eo'", "'hll'", 3)
             .shows("'ab'^97", "'ab'", 3).shows("(1 0=1 1)^0", "1b", 2).shows("1 3000000000^3000000000", ",1", 5)
             .shows("(!0)^5", "!0", 4)
