@@ -25,12 +25,14 @@ public final class PrintTest {
     }
 
     private static void signs() {
-        // TEXTS hold bytes 32 to 126 without ', so these are all the bytes that a SIGN can be.
-        Doc.says("ONE SIGN, SIGNS: the bytes between two ' (a dot for a ' and for bytes that aren't 32 to 126), one of a row with a "
+        // TEXTS hold bytes 32 to 126 without ', and $ alone makes a SIGN ': no line can make any other.
+        Check check = Doc.says("ONE SIGN, SIGNS: the bytes between two ' (a dot for a ' and for bytes that aren't 32 to 126), one of a row with a "
                 + ", ahead;")
             .shows("'a'", "'a'").shows("' '", "' '").shows("'~'", "'~'").shows("'ab c'", "'ab c'").shows(", 'a'", ",'a'")
             .shows("0# 'a'", "''").shows("$ 'a'", "'.a.'").shows("*$ 'a'", "'.'").shows("1#$ 'a'", ",'.'").shows("'.'", "'.'")
             .shows("$$ 'a'", "'..a..'");
+        check.does("$ 'a'");
+        Check.same("the ' that a dot is printed for", check.calc.item(0), '\'');
     }
 
     private static void rows() {
